@@ -1089,6 +1089,15 @@ public final class TwoBarsByTheWindow {
             return sum;
         }
 
+        int wholeWorth() {
+            int sum = 0;
+            for (int d = 0; d < devices; d++) {
+                Device device = deviceAt(d);
+                sum += device == null ? 0 : device.worth;
+            }
+            return sum;
+        }
+
         int draw(int below) {
             seed = seed * 1103515245 + 12345;
             return below > 0 ? (seed >>> 16) % below : 0;
@@ -1322,12 +1331,13 @@ public final class TwoBarsByTheWindow {
         }
     }
 
-    /** What is best for SERVED; it is tried out in a draft of the house. */
+    /** What is best for SERVED; it is tried out in a draft of the house, till all are served or all is tried. */
     private static final class Plan {
         private final House now;
         private final House draft;
         private final Air air;
         private final int[] doorRow = new int[DOORS];
+        private int all = 0;
 
         Plan(House now, House draft) {
             this.now = now;
@@ -1338,6 +1348,7 @@ public final class TwoBarsByTheWindow {
         void begin() {
             draft.become(now);
             air.lay();
+            all = draft.wholeWorth();
         }
 
         private void reachFromAll() {
@@ -1352,7 +1363,7 @@ public final class TwoBarsByTheWindow {
             reachFromAll();
             int best = 0;
             int most = NONE;
-            for (int cell = 0; cell < PLACES; cell++) {
+            for (int cell = 0; cell < PLACES && most < all; cell++) {
                 if (draft.isCell(cell)) {
                     int served = box == 0 ? air.servedBy(cell, draft.second) : air.servedBy(draft.first, cell);
                     if (served > most) {
@@ -1369,7 +1380,7 @@ public final class TwoBarsByTheWindow {
             int best = 0;
             int most = NONE;
             for (int one = 0; one < PLACES; one++) {
-                for (int other = 0; other < PLACES && draft.isCell(one); other++) {
+                for (int other = 0; other < PLACES && most < all && draft.isCell(one); other++) {
                     int served = draft.isCell(other) ? air.servedBy(one, other) : NONE;
                     if (served > most) {
                         most = served;
@@ -1383,7 +1394,7 @@ public final class TwoBarsByTheWindow {
         int bestAway() {
             int best = NONE;
             int most = NONE;
-            for (int i = 0; i < draft.things; i++) {
+            for (int i = 0; i < draft.things && most < all; i++) {
                 Thing thing = draft.thingAt(i);
                 Thing real = now.thingAt(i);
                 if (thing != null && real != null) {
@@ -1404,9 +1415,10 @@ public final class TwoBarsByTheWindow {
 
         int bestDoors() {
             int doors = findDoors();
+            // Bits from the least on: a shut door swallows, so what all open ones bring is seen first.
             int best = 0;
             int most = NONE;
-            for (int bits = 0; bits < 1 << doors; bits++) {
+            for (int bits = 0; bits < 1 << doors && most < all; bits++) {
                 for (int i = 0; i < doors && i < doorRow.length; i++) {
                     Thing door = draft.thingAt(doorRow[i]);
                     if (door != null) {
@@ -1439,7 +1451,7 @@ public final class TwoBarsByTheWindow {
             int start = draft.minute;
             int best = start;
             int most = NONE;
-            for (int later = 0; later < MINUTES; later++) {
+            for (int later = 0; later < MINUTES && most < all; later++) {
                 draft.minute = (start + later) % MINUTES;
                 air.layHum();
                 int served = air.servedNow();

@@ -58,6 +58,8 @@ public final class PlanTest {
         Checks.due("the box stays", x.status(5), 6);
         TwoBarsByTheWindow y = Checks.built("neighbour 6 4;neighbour 1 20");
         Checks.due("a din that is cut to 0", y.channel(), 10);
+        TwoBarsByTheWindow w = Checks.built("neighbour 1 2;neighbour 7 20;neighbour 13 20");
+        Checks.due("2 and 1, and much from 3 on", w.channel(), 2);
         TwoBarsByTheWindow z = Checks.built("neighbour 1 20;channel 13");
         Checks.due("whatever the box's channel", z.channel(), 6);
     }
