@@ -375,11 +375,11 @@ public final class TwoBarsByTheWindow {
         if (what < 0 || what > 1) {
             return refuse(BEYOND);
         }
-        if (what == 1) {
-            return now.dinOn(now.channel);
-        }
         if (!now.isCell(cell)) {
             return refuse(WRONG);
+        }
+        if (what == 1) {
+            return now.dinOn(now.channel);
         }
         air.lay();
         return air.humAt(cell);

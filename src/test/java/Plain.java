@@ -531,8 +531,8 @@ final class Plain {
 
     int hum(int cell, int what) {
         if (what < 0 || what > 1) return no(-5);
-        if (what == 1) return st.din(st.channel);
-        return st.cell(cell) ? st.humAt(cell) : no(-6);
+        if (!st.cell(cell)) return no(-6);
+        return what == 0 ? st.humAt(cell) : st.din(st.channel);
     }
 
     int filled(int what) {

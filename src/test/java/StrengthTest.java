@@ -127,13 +127,21 @@ public final class StrengthTest {
         Checks.due("on another channel", x.hum(0, 1), 12);
         x.ask(1, 8);
         Checks.due("all by the box's channel", x.hum(0, 1), 1 + 7 + 8 + 0 + 0 + 0 + 0 + 12);
-        Checks.due("whatever cell", x.hum(99, 1), 28);
-        Checks.due("whatever cell below", x.hum(-5, 1), 28);
+        for (int cell = -90; cell < 100; cell++) {
+            boolean is = cell >= 0 && cell / 10 < 4 && cell % 10 < 4;
+            Checks.due("all din, whatever cell: " + cell, x.hum(cell, 1), is ? 28 : -6);
+        }
+        Checks.due("-6 counted, all din", x.status(16), 190 - 16);
+        Checks.due("no cell from above", x.hum(Integer.MAX_VALUE, 1), -6);
+        Checks.due("no cell from below", x.hum(Integer.MIN_VALUE, 1), -6);
         Checks.due("no cell", x.hum(44, 0), -6);
+        Checks.due("no cell below", x.hum(-1, 0), -6);
         Checks.due("another what first", x.hum(44, 2), -5);
         Checks.due("another what below", x.hum(0, -1), -5);
-        Checks.due("-6 counted", x.status(16), 1);
+        Checks.due("-6 counted", x.status(16), 190 - 16 + 4);
         Checks.due("-5 counted", x.status(15), 2);
+        x.side(5);
+        Checks.due("a cell by then", x.hum(44, 1), 28);
     }
 
     private static void promise24Filled() {
