@@ -4,7 +4,7 @@ public final class HouseTest {
     private static final int HIGH = Integer.MAX_VALUE;
 
     private static void promise1NewObject() {
-        TwoBarsByTheWindow x = new TwoBarsByTheWindow();
+        Face x = Watch.fresh();
         int[] due = {0, 4, 0, 0, 50, 6, 0, 0, -1, 1, 0, 0, 0, 0, 0, 0, 0, 0};
         for (int what = 0; what < due.length; what++) {
             Checks.due("status " + what, x.status(what), due[what]);
@@ -16,7 +16,7 @@ public final class HouseTest {
         Checks.due("no thing", x.thingOf(0, 0), -5);
         Checks.due("no device", x.deviceOf(0, 0), -5);
         Checks.due("no neighbour", x.goesTo(0, 0), -1);
-        TwoBarsByTheWindow y = new TwoBarsByTheWindow();
+        Face y = Watch.fresh();
         x.thing(1, 2, 3);
         x.ask(0, 20);
         Checks.due("objects of their own", y.status(0), 0);
@@ -24,7 +24,7 @@ public final class HouseTest {
     }
 
     private static void promise9Side() {
-        TwoBarsByTheWindow x = new TwoBarsByTheWindow();
+        Face x = Watch.fresh();
         for (int bad : new int[] {LOW, -1, 0, 1, 2, 3, 9, HIGH}) {
             Checks.due("side " + bad, x.side(bad), -6);
         }
@@ -41,7 +41,7 @@ public final class HouseTest {
     }
 
     private static void promise10Thing() {
-        TwoBarsByTheWindow x = new TwoBarsByTheWindow();
+        Face x = Watch.fresh();
         Checks.due("kind first", x.thing(7, 10, 99), -1);
         Checks.due("kind", x.thing(-1, 0, 0), -1);
         Checks.due("a", x.thing(0, 10, 0), -6);
@@ -65,7 +65,7 @@ public final class HouseTest {
     }
 
     private static void promise11Neighbour() {
-        TwoBarsByTheWindow x = new TwoBarsByTheWindow();
+        Face x = Watch.fresh();
         int[][] bad = {{0, 0}, {14, 0}, {1, -1}, {1, 21}, {LOW, 0}, {1, HIGH}};
         for (int[] b : bad) {
             Checks.due("neighbour " + b[0] + " " + b[1], x.neighbour(b[0], b[1]), -6);
@@ -80,7 +80,7 @@ public final class HouseTest {
     }
 
     private static void promise12Device() {
-        TwoBarsByTheWindow x = new TwoBarsByTheWindow();
+        Face x = Watch.fresh();
         int[][] bad = {{4, 1, 1}, {-1, 1, 1}, {0, 0, 1}, {0, 6, 1}, {0, 1, 0}, {0, 1, 100}, {HIGH, 1, 1}, {0, LOW, 1}};
         for (int[] b : bad) {
             Checks.due("device", x.device(b[0], b[1], b[2]), -6);
@@ -95,7 +95,7 @@ public final class HouseTest {
     }
 
     private static void promise13Box() {
-        TwoBarsByTheWindow x = new TwoBarsByTheWindow();
+        Face x = Watch.fresh();
         Checks.due("no box", x.box(2, 0), -16);
         Checks.due("no box below", x.box(-1, 0), -16);
         Checks.due("box 0 to none", x.box(0, -1), -16);
@@ -115,7 +115,7 @@ public final class HouseTest {
     }
 
     private static void promise14Ask() {
-        TwoBarsByTheWindow x = new TwoBarsByTheWindow();
+        Face x = Watch.fresh();
         int[][] bad = {
             {0, 9}, {0, 61}, {1, 0}, {1, 14}, {2, -1}, {2, 60}, {3, 10}, {-1, 10}, {0, LOW}, {1, HIGH}, {2, LOW}};
         for (int[] b : bad) {
@@ -130,7 +130,7 @@ public final class HouseTest {
     }
 
     private static void promise15Shut() {
-        TwoBarsByTheWindow x = new TwoBarsByTheWindow();
+        Face x = Watch.fresh();
         Checks.due("no thing", x.shut(0, true), -1);
         x.thing(0, 1, 0);
         Checks.due("below", x.shut(-1, true), -1);
@@ -142,7 +142,7 @@ public final class HouseTest {
     }
 
     private static void promise16Move() {
-        TwoBarsByTheWindow x = new TwoBarsByTheWindow();
+        Face x = Watch.fresh();
         Checks.due("no thing, no cell", x.move(0, 99), -1);
         x.thing(0, 1, 11);
         Checks.due("no cell", x.move(0, 4), -6);
@@ -154,7 +154,7 @@ public final class HouseTest {
     }
 
     private static void promise17ThingOf() {
-        TwoBarsByTheWindow x = new TwoBarsByTheWindow();
+        Face x = Watch.fresh();
         int[] shutLoss = {9, 12, 9, 24, 0, 4, 0};
         int[] openLoss = {9, 12, 0, 24, 0, 0, 0};
         for (int kind = 0; kind < 7; kind++) {
@@ -177,7 +177,7 @@ public final class HouseTest {
 
     private static void promise18DeviceOf() {
         // BARS of BOX 0 are 3 at 33; BOX 1 there has 5, half of it is 2, and BOX 0 has 3 where it stands.
-        TwoBarsByTheWindow x = Checks.built("device 33 2 40;device 00 5 7;box 1 33");
+        Face x = Checks.built("device 33 2 40;device 00 5 7;box 1 33");
         int[][] due = {{33, 2, 40, 0, 3, 3}, {0, 5, 7, 0, 5, 5}};
         for (int d = 0; d < 2; d++) {
             for (int what = 0; what < 6; what++) {

@@ -4,7 +4,7 @@ public final class MeasureTest {
     private static final int HIGH = Integer.MAX_VALUE;
 
     private static void promise32Fits() {
-        TwoBarsByTheWindow x = new TwoBarsByTheWindow();
+        Face x = Watch.fresh();
         Checks.fill(x, 0, 2, 0, 5, 33, 3);
         Checks.due("no pairs: all", x.fits(0, 0, -1), 16);
         Checks.due("the last of all", x.fits(0, 0, 15), 33);
@@ -24,7 +24,7 @@ public final class MeasureTest {
         Checks.due("by the lowest 32 bits", x.fits(1, 1, -1), 15);
         Checks.due("the one behind 10", x.fits(1, 1, 5), 12);
         refusals(x);
-        TwoBarsByTheWindow y = Checks.built("thing 1 4 1;thing 4 9 2;neighbour 6 5");
+        Face y = Checks.built("thing 1 4 1;thing 4 9 2;neighbour 6 5");
         Checks.fill(y, 0, 0, 2, 2);
         // At 2: 50 - 20 - 5 = 25 less steps and losses: 20 and more up to two steps off, but for 0 behind the wall.
         Checks.due("with losses, hum and din", y.fits(0, 1, -1), 7);
@@ -36,7 +36,7 @@ public final class MeasureTest {
         Checks.due("BOX 1 makes no odds", y.fits(0, 1, -1), 7);
     }
 
-    private static void refusals(TwoBarsByTheWindow x) {
+    private static void refusals(Face x) {
         x.thing(0, 0, 0);
         x.show(2, 0);
         Checks.due("no shelf", x.fits(8, -1, 9), -1);
@@ -67,7 +67,7 @@ public final class MeasureTest {
     }
 
     private static void promise33Next() {
-        TwoBarsByTheWindow x = new TwoBarsByTheWindow();
+        Face x = Watch.fresh();
         Checks.fill(x, 0, 2, 33, 4, 32, 4, 30, 5);
         Checks.due("measured at 0: 1, 14 and 1", x.next(0, 0), 0);
         x.ask(0, 44);
@@ -79,13 +79,13 @@ public final class MeasureTest {
         x.set(0, 5, 0);
         Checks.due("none fits at all", x.next(0, 3), -1);
         Checks.due("nothing refused", x.status(15), 0);
-        TwoBarsByTheWindow y = Checks.built("power 10");
+        Face y = Checks.built("power 10");
         Checks.fill(y, 0, 2, 0, 0, 1, 0);
         // 10 has 1 bar in its own cell alone: any measure leaves all but one, so the first; a cell that can't be
         // BOX 0's leaves all.
         Checks.due("the first that takes one away", y.next(0, 2), 2);
         Checks.due("two less", y.fits(0, 2, -1), 14);
-        TwoBarsByTheWindow z = new TwoBarsByTheWindow();
+        Face z = Watch.fresh();
         z.thing(0, 0, 0);
         z.show(2, 0);
         z.row(0, 2, 4);
@@ -108,7 +108,7 @@ public final class MeasureTest {
     }
 
     private static void promise34Near() {
-        TwoBarsByTheWindow x = new TwoBarsByTheWindow();
+        Face x = Watch.fresh();
         Checks.due("here", x.near(0, 5), 0);
         Checks.due("at the box", x.near(33, 5), 6);
         Checks.due("a step nearer", x.near(33, 4), 1);
@@ -129,7 +129,7 @@ public final class MeasureTest {
     }
 
     private static void promise36Blame() {
-        TwoBarsByTheWindow x = new TwoBarsByTheWindow();
+        Face x = Watch.fresh();
         Checks.due("nothing lost", x.blame(0), 0);
         x.thing(0, 4, 2);
         Checks.due("4 and 4: the steps", x.blame(2), 0);
@@ -162,7 +162,7 @@ public final class MeasureTest {
     }
 
     private static void promise37Judge() {
-        TwoBarsByTheWindow x = new TwoBarsByTheWindow();
+        Face x = Watch.fresh();
         Checks.fill(x, 0, 3, 0, 1, 11, 21, (3L << 32) + 21, 20, 33, 99);
         Checks.due("none told", x.judge(0, 0), -1);
         Checks.due("a good one", x.judge(0, 6), -1);
@@ -196,7 +196,7 @@ public final class MeasureTest {
     }
 
     private static void promise38Hops() {
-        TwoBarsByTheWindow x = new TwoBarsByTheWindow();
+        Face x = Watch.fresh();
         Checks.fill(x, 0, 3, 0, 1, 2, 3, 2, 1, (1L << 32), 44);
         for (int rule = 0; rule <= 4; rule++) {
             Checks.due("no other box, rule " + rule, x.hops(0, 7, rule), 0);

@@ -6,7 +6,10 @@ public final class ModelTest {
     private static final String[] WORDS = {
         "side", "thing", "box", "power", "channel", "neighbour", "device", "open", "shut", "minute"};
 
-    private final TwoBarsByTheWindow x = new TwoBarsByTheWindow();
+    // A step takes fewer calls than this.
+    private static final int STEP = 300;
+
+    private final Face x = Watch.fresh();
     private final Plain y = new Plain();
     private final int run;
     private final int odd;
@@ -45,8 +48,12 @@ public final class ModelTest {
         Checks.due("run " + run + ", call " + calls + ": " + call, got, want);
     }
 
-    private void goOn(int n) {
-        for (int i = 0; i < n; i++) {
+    /** First some house, then calls of all sorts, as many as an object is used for. */
+    private void goOn() {
+        for (int i = run % 4 * 12; i > 0; i--) {
+            build();
+        }
+        while (Watch.calls(x) + STEP <= Watch.MOST) {
             int what = draw(100);
             if (what < 12) {
                 build();
@@ -245,9 +252,9 @@ public final class ModelTest {
     }
 
     public static void main(String[] args) {
-        int runs = args.length > 1 ? Integer.parseInt(args[1]) : 400;
+        int runs = args.length > 1 ? Integer.parseInt(args[1]) : 6000;
         for (int run = 0; run < runs; run++) {
-            new ModelTest(run).goOn(150);
+            new ModelTest(run).goOn();
         }
         Checks.end("ModelTest");
     }

@@ -1,17 +1,17 @@
 /** Promises 25 to 31 and 35: what were best. */
 public final class PlanTest {
     private static void promise25Put() {
-        TwoBarsByTheWindow x = new TwoBarsByTheWindow();
+        Face x = Watch.fresh();
         Checks.due("no devices: the first", x.put(0), 0);
         Checks.due("no devices: the first for box 1", x.put(1), 0);
         Checks.due("no devices: the first pair", x.put(2), 0);
         x.device(33, 5, 10);
         Checks.due("only where it is", x.put(0), 33);
-        TwoBarsByTheWindow y = Checks.built("device 33 4 10");
+        Face y = Checks.built("device 33 4 10");
         Checks.due("five steps off", y.put(0), 1);
         y.device(30, 5, 11);
         Checks.due("30 has 44 at 33", y.put(0), 30);
-        TwoBarsByTheWindow z = Checks.built("side 8;power 30;device 65 1 10");
+        Face z = Checks.built("side 8;power 30;device 65 1 10");
         // BOX 1 is wanted five steps off 65 at most and where BOX 0 has a bar: first 15.
         Checks.due("box 1", z.put(1), 15);
         Checks.due("both", z.put(2), 15);
@@ -21,9 +21,7 @@ public final class PlanTest {
         Checks.due("77 by box 0", z.put(0), 77);
         z.device(0, 3, 50);
         Checks.due("0 and 65", z.put(2), 15);
-        String ahead = Checks.whole(z);
-        z.put(2);
-        Checks.hold("nothing is changed", ahead.equals(Checks.whole(z)));
+        Checks.onlyTells("both", z, y2 -> y2.put(2), 15);
         z.box(1, 15);
         Checks.due("box 1 as it is", z.put(0), 0);
         Checks.due("another what", z.put(3), -5);
@@ -35,7 +33,7 @@ public final class PlanTest {
     private static void withBoxOne() {
         // 0 wants BOX 0 five steps off at most. 77 gets 1 of BOX 1 at 75, if BOX 0 is ten steps off that at most,
         // or 1 of BOX 0 itself ten steps off.
-        TwoBarsByTheWindow x = Checks.built("side 8;power 30;device 77 1 10;device 0 2 9;box 1 75");
+        Face x = Checks.built("side 8;power 30;device 77 1 10;device 0 2 9;box 1 75");
         Checks.due("box 0 by 0, heard at 75", x.put(0), 2);
         Checks.due("served at first", x.filled(1), 9);
         x.box(0, 2);
@@ -47,7 +45,7 @@ public final class PlanTest {
     }
 
     private static void promise26Channel() {
-        TwoBarsByTheWindow x = new TwoBarsByTheWindow();
+        Face x = Watch.fresh();
         Checks.due("no neighbours", x.channel(), 1);
         x.neighbour(6, 10);
         Checks.due("five off", x.channel(), 1);
@@ -56,30 +54,30 @@ public final class PlanTest {
         x.neighbour(13, 5);
         Checks.due("least of all", x.channel(), 11);
         Checks.due("the box stays", x.status(5), 6);
-        TwoBarsByTheWindow y = Checks.built("neighbour 6 4;neighbour 1 20");
+        Face y = Checks.built("neighbour 6 4;neighbour 1 20");
         Checks.due("a din that is cut to 0", y.channel(), 10);
-        TwoBarsByTheWindow w = Checks.built("neighbour 1 2;neighbour 7 20;neighbour 13 20");
+        Face w = Checks.built("neighbour 1 2;neighbour 7 20;neighbour 13 20");
         Checks.due("2 and 1, and much from 3 on", w.channel(), 2);
-        TwoBarsByTheWindow z = Checks.built("neighbour 1 20;channel 13");
+        Face z = Checks.built("neighbour 1 20;channel 13");
         Checks.due("whatever the box's channel", z.channel(), 6);
     }
 
     private static void promise27Rests() {
-        TwoBarsByTheWindow x = new TwoBarsByTheWindow();
+        Face x = Watch.fresh();
         Checks.due("no neighbours", x.rests(), 0);
         x.neighbour(13, 5);
         Checks.due("one at rest", x.rests(), 0);
         x.neighbour(6, 20);
         Checks.due("one moves", x.rests(), 1);
         Checks.due("nothing is changed", x.goesTo(1, 0), 6);
-        TwoBarsByTheWindow y = Checks.built("neighbour 6 5");
+        Face y = Checks.built("neighbour 6 5");
         y.box(1, 0);
         Checks.due("from the box", y.rests(), 1);
         y.ask(1, 11);
         Checks.due("the box is off", y.rests(), 0);
         y.ask(1, 8);
         Checks.due("to 1", y.rests(), 1);
-        TwoBarsByTheWindow z = Checks.built(
+        Face z = Checks.built(
             "channel 12;neighbour 10 2;neighbour 7 0;neighbour 8 8;neighbour 13 2",
             "neighbour 7 3;neighbour 13 3;neighbour 11 3;neighbour 7 5");
         Checks.due("these never rest", z.rests(), -1);
@@ -92,7 +90,7 @@ public final class PlanTest {
     }
 
     private static void promise28GoesTo() {
-        TwoBarsByTheWindow x = Checks.built("neighbour 6 20;neighbour 6 20");
+        Face x = Checks.built("neighbour 6 20;neighbour 6 20");
         int[][] due = {{6, 6}, {1, 11}, {1, 11}};
         for (int n = 0; n < 3; n++) {
             Checks.due("the one behind " + n, x.goesTo(0, n), due[n][0]);
@@ -101,7 +99,7 @@ public final class PlanTest {
         Checks.due("behind 20", x.goesTo(1, 20), 11);
         Checks.due("one round", x.rests(), 1);
         // 10 at 1 make 10, 8, 6, 4, 2, 0; the BOX at 4 makes 4, 6, 8, 10, 8, 6, 4, 2, 0.
-        TwoBarsByTheWindow y = Checks.built("channel 4;neighbour 1 10;neighbour 5 0");
+        Face y = Checks.built("channel 4;neighbour 1 10;neighbour 5 0");
         Checks.due("away from the box", y.goesTo(0, 1), 9);
         Checks.due("no neighbour", x.goesTo(2, 99), -1);
         Checks.due("no neighbour below", x.goesTo(-1, 0), -1);
@@ -112,7 +110,7 @@ public final class PlanTest {
     }
 
     private static void promise29Moved() {
-        TwoBarsByTheWindow x = new TwoBarsByTheWindow();
+        Face x = Watch.fresh();
         Checks.due("no things", x.moved(), -1);
         x.thing(0, 1, 30);
         x.thing(4, 9, 3);
@@ -122,13 +120,13 @@ public final class PlanTest {
         x.device(2, 3, 50);
         Checks.due("the old wall, more than the oven", x.moved(), 2);
         Checks.due("it is there still", x.thingOf(2, 4), 24);
-        TwoBarsByTheWindow y = Checks.built("device 3 1 5;thing 6 0 33;thing 0 0 0");
+        Face y = Checks.built("device 3 1 5;thing 6 0 33;thing 0 0 0");
         Checks.due("of several the first", y.moved(), 0);
         Checks.due("kinds stay", y.thingOf(0, 0), 6);
     }
 
     private static void promise30Doors() {
-        TwoBarsByTheWindow x = new TwoBarsByTheWindow();
+        Face x = Watch.fresh();
         Checks.due("no doors", x.doors(), 0);
         x.thing(2, 9, 1);
         x.device(1, 5, 5);
@@ -136,14 +134,14 @@ public final class PlanTest {
         x.shut(0, false);
         Checks.due("open before, the same", x.doors(), 0);
         // Shutting swallows and never helps, so the least bits are always best: all open.
-        TwoBarsByTheWindow y = Checks.built("device 3 4 5;thing 2 9 1;thing 1 0 33;thing 5 9 2");
+        Face y = Checks.built("device 3 4 5;thing 2 9 1;thing 1 0 33;thing 5 9 2");
         Checks.due("all open", y.doors(), 0);
         Checks.due("the door is shut still", y.thingOf(0, 3), 1);
         Checks.due("the glass is shut still", y.thingOf(2, 3), 1);
     }
 
     private static void promise31Count() {
-        TwoBarsByTheWindow x = new TwoBarsByTheWindow();
+        Face x = Watch.fresh();
         int[] due = {16, 16, 16, 16, 15, 1};
         for (int n = 0; n <= 5; n++) {
             Checks.due("count " + n, x.count(n), due[n]);
@@ -159,7 +157,7 @@ public final class PlanTest {
     }
 
     private static void promise35Minute() {
-        TwoBarsByTheWindow x = Checks.built("thing 4 5 33;device 33 3 9");
+        Face x = Checks.built("thing 4 5 33;device 33 3 9");
         int[][] due = {{0, 5}, {4, 5}, {5, 5}, {9, 9}, {10, 15}, {54, 55}, {58, 58}, {59, 59}};
         for (int[] d : due) {
             x.ask(2, d[0]);
@@ -169,7 +167,7 @@ public final class PlanTest {
         x.move(0, 0);
         x.ask(2, 51);
         Checks.due("it makes no difference", x.minute(), 51);
-        TwoBarsByTheWindow y = new TwoBarsByTheWindow();
+        Face y = Watch.fresh();
         y.ask(2, 17);
         Checks.due("no devices: this one", y.minute(), 17);
     }

@@ -4,7 +4,7 @@ public final class ShelfTest {
     private static final int HIGH = Integer.MAX_VALUE;
 
     private static void promise2Row() {
-        TwoBarsByTheWindow x = new TwoBarsByTheWindow();
+        Face x = Watch.fresh();
         Checks.due("no shelf", x.row(-1, 9, -1), -1);
         Checks.due("no shelf 8", x.row(8, 0, 0), -1);
         Checks.due("below", x.row(0, 9, -1), -4);
@@ -32,7 +32,7 @@ public final class ShelfTest {
     }
 
     private static void promise3Set() {
-        TwoBarsByTheWindow x = new TwoBarsByTheWindow();
+        Face x = Watch.fresh();
         x.thing(0, 0, 0);
         x.show(1, 0);
         Checks.due("no shelf", x.set(8, 9, 0), -1);
@@ -58,7 +58,7 @@ public final class ShelfTest {
     }
 
     private static void promise4Copy() {
-        TwoBarsByTheWindow x = new TwoBarsByTheWindow();
+        Face x = Watch.fresh();
         x.thing(0, 0, 0);
         x.show(5, 0);
         Checks.fill(x, 0, 2, 1, 2, 3, 4, 5);
@@ -103,7 +103,7 @@ public final class ShelfTest {
     }
 
     private static void promise5Element() {
-        TwoBarsByTheWindow x = new TwoBarsByTheWindow();
+        Face x = Watch.fresh();
         x.thing(0, 0, 11);
         x.show(1, 0);
         Checks.fill(x, 0, 3, 1L << 40, -7);
@@ -120,7 +120,7 @@ public final class ShelfTest {
     }
 
     private static void promise6Show() {
-        TwoBarsByTheWindow x = new TwoBarsByTheWindow();
+        Face x = Watch.fresh();
         Checks.due("no thing yet", x.show(0, 0), -1);
         x.thing(1, 2, 3);
         Checks.due("no shelf", x.show(8, 0), -1);
@@ -140,7 +140,7 @@ public final class ShelfTest {
     }
 
     private static void promise7Holds() {
-        TwoBarsByTheWindow x = new TwoBarsByTheWindow();
+        Face x = Watch.fresh();
         for (int s = -1; s <= 8; s++) {
             Checks.due("nothing at first", x.holds(s), -1);
         }
@@ -157,7 +157,7 @@ public final class ShelfTest {
     }
 
     private static void promise8Says() {
-        TwoBarsByTheWindow x = new TwoBarsByTheWindow();
+        Face x = Watch.fresh();
         int[] loss = {7, 10, 7, 20, 0, 3, 0};
         int[][] kin = {{0}, {0, 1}, {0, 2}, {0, 1, 3}, {0, 4}, {0, 2, 5}, {0, 4, 6}};
         for (int kind = 0; kind < 7; kind++) {

@@ -1,7 +1,7 @@
 /** Promises 21 to 24. */
 public final class StrengthTest {
     private static void promise21Bars() {
-        TwoBarsByTheWindow x = Checks.built("thing 1 4 1;thing 3 2 11;thing 2 9 10");
+        Face x = Checks.built("thing 1 4 1;thing 3 2 11;thing 2 9 10");
         // To 11: over 1 the losses are 7 and 10, over 10 (the shut door) 9 and 10.
         Checks.due("strength behind a wall", x.bars(0, 11, 0), 50 - 4 - 17);
         Checks.due("bars", x.bars(0, 11, 1), 2);
@@ -25,7 +25,7 @@ public final class StrengthTest {
     }
 
     private static void secondBox() {
-        TwoBarsByTheWindow x = Checks.built("thing 0 9 1;thing 0 9 1");
+        Face x = Checks.built("thing 0 9 1;thing 0 9 1");
         for (int what = 0; what < 3; what++) {
             Checks.due("no such box", x.bars(1, 0, what), 0);
         }
@@ -50,7 +50,7 @@ public final class StrengthTest {
     }
 
     private static void refusals() {
-        TwoBarsByTheWindow x = new TwoBarsByTheWindow();
+        Face x = Watch.fresh();
         Checks.due("another what first", x.bars(2, 99, 3), -5);
         Checks.due("another what below", x.bars(0, 0, -1), -5);
         Checks.due("no box", x.bars(2, 0, 0), -6);
@@ -63,7 +63,7 @@ public final class StrengthTest {
     }
 
     private static void promise22Way() {
-        TwoBarsByTheWindow x = Checks.built("side 8;thing 1 4 1;thing 3 2 11;thing 2 9 10;thing 0 5 00;thing 0 2 77");
+        Face x = Checks.built("side 8;thing 1 4 1;thing 3 2 11;thing 2 9 10;thing 0 5 00;thing 0 2 77");
         Checks.due("far", x.way(0, 77, 0), 14);
         Checks.due("far across", x.way(70, 7, 0), 14);
         Checks.due("far from itself", x.way(35, 35, 0), 0);
@@ -84,12 +84,12 @@ public final class StrengthTest {
         Checks.due("no cell", x.way(80, 0, 0), -6);
         Checks.due("no other", x.way(0, 8, 1), -6);
         Checks.due("no cell below", x.way(-1, 0, 0), -6);
-        TwoBarsByTheWindow y = Checks.built("thing 5 9 1;thing 4 9 2;thing 6 9 3");
+        Face y = Checks.built("thing 5 9 1;thing 4 9 2;thing 6 9 3");
         Checks.due("glass, oven, cot", y.way(0, 3, 1), 4);
     }
 
     private static void promise23Hum() {
-        TwoBarsByTheWindow x = Checks.built("side 7;thing 4 3 33;thing 6 0 33");
+        Face x = Checks.built("side 7;thing 4 3 33;thing 6 0 33");
         int[] both = {30, 20, 10, 5, 0, 0};
         int[] cots = {10, 5, 0, 0, 0, 0};
         int[] cells = {33, 34, 35, 36, 46, 66};
@@ -107,13 +107,13 @@ public final class StrengthTest {
         Checks.due("at 34", x.hum(34, 0), 25);
         Checks.due("strength where it hums", x.bars(0, 34, 0), 50 - 14 - 25);
         Checks.due("the hum of the cell alone", x.bars(0, 66, 0), 50 - 24);
-        TwoBarsByTheWindow z = Checks.built("thing 4 0 0");
+        Face z = Checks.built("thing 4 0 0");
         Checks.due("an oven of 0 never runs", z.hum(0, 0), 0);
         din();
     }
 
     private static void din() {
-        TwoBarsByTheWindow x = new TwoBarsByTheWindow();
+        Face x = Watch.fresh();
         Checks.due("no din", x.hum(0, 1), 0);
         int[][] told = {{6, 3, 3}, {8, 7, 4}, {11, 20, 0}, {2, 20, 4}, {7, 1, 0}, {5, 1, 0}, {1, 20, 0}, {6, 20, 20}};
         int sum = 0;
@@ -146,17 +146,17 @@ public final class StrengthTest {
 
     private static void promise24Filled() {
         // PACE of BOX 0: 5 at 0, 4 at 3, 3 at 33. BOX 1 at 33: 2 at most.
-        TwoBarsByTheWindow x = Checks.built("device 0 5 1;device 3 4 2;device 3 5 4;device 33 3 8;device 33 4 16");
+        Face x = Checks.built("device 0 5 1;device 3 4 2;device 3 5 4;device 33 3 8;device 33 4 16");
         Checks.due("filled", x.filled(0), 11);
         Checks.due("served", x.filled(1), 11);
-        TwoBarsByTheWindow y = Checks.built("power 30;box 1 33;device 33 1 10;device 33 2 20;device 0 3 40");
+        Face y = Checks.built("power 30;box 1 33;device 33 1 10;device 33 2 20;device 0 3 40");
         // BARS of BOX 0 at 33: 1; BOX 1 there 3, half is 1.
         Checks.due("filled by box 0", y.filled(0), 50);
         Checks.due("served by either", y.filled(1), 50);
         y.ask(0, 24);
         // BOX 0 has 12 at 33, BOX 1 has 24: 1 each.
         Checks.due("filled by less", y.filled(0), 10);
-        TwoBarsByTheWindow z = Checks.built("side 8;power 30;box 1 15;device 65 1 10");
+        Face z = Checks.built("side 8;power 30;box 1 15;device 65 1 10");
         Checks.due("box 0 has none there", z.filled(0), 0);
         Checks.due("box 1 has one", z.filled(1), 10);
         z.evening(1, 0);

@@ -1,23 +1,182 @@
-/** Promises 19 and 20: houses read from texts. */
+/** Promises 19 and 20, and what "1. THE HOUSE" says of texts: each sentence with its edges. */
 public final class TextTest {
-    private static void faulty(TwoBarsByTheWindow x, String text, int place) {
-        Checks.text(x, 0, text);
-        String ahead = Checks.whole(x).replaceAll("-?\\d+$", "");
-        Checks.due("house " + text, x.house(0), -6);
-        Checks.due("fault of " + text, x.fault(), place);
-        Checks.hold("nothing changes by " + text, ahead.equals(Checks.whole(x).replaceAll("-?\\d+$", "")));
+    private static final String[] WORDS = {
+        "side", "thing", "box", "power", "channel", "neighbour", "device", "open", "shut", "minute"};
+
+    /** This FAULT; -6 is counted, and nothing but the FAULT changes. x itself isn't told. */
+    private static void faulty(Face x, String text, int place) {
+        Face as = Watch.twin(x);
+        Checks.text(as, 0, text);
+        Face then = Watch.twin(as);
+        Checks.due("house " + text, then.house(0), -6);
+        Checks.due("fault of " + text, then.fault(), place);
+        Checks.counted("house " + text, then, as, 6);
+        Checks.same("nothing changes by " + text, then, as);
     }
 
-    private static void good(TwoBarsByTheWindow x, String text, int items) {
-        Checks.text(x, 0, text);
-        Checks.due("house " + text, x.house(0), items);
-        Checks.due("no fault of " + text, x.fault(), -1);
+    private static void faulty(String text, int place) {
+        faulty(Watch.fresh(), text, place);
     }
 
-    private static void promise19House() {
-        TwoBarsByTheWindow x = new TwoBarsByTheWindow();
-        good(x, "side 6;thing 3 9 55;thing 2 04 05;box 0 50;box 1 12;power 10;channel 13", 7);
-        good(x, "neighbour 1 20;device 45 5 99;open 1;minute 59;thing 6 0 0;shut 1;open 02", 7);
+    /** A twin of x that has read this. */
+    private static Face good(Face x, String text, int items) {
+        Face then = Watch.twin(x);
+        Checks.text(then, 0, text);
+        Checks.due("house " + text, then.house(0), items);
+        Checks.due("no fault of " + text, then.fault(), -1);
+        Checks.counted("house " + text, then, Watch.twin(x), 0);
+        return then;
+    }
+
+    private static Face good(String text, int items) {
+        return good(Watch.fresh(), text, items);
+    }
+
+    private static Face furnished() {
+        Face x = Watch.fresh();
+        x.side(6);
+        x.thing(2, 9, 11);
+        x.thing(5, 8, 12);
+        x.neighbour(3, 10);
+        x.device(22, 2, 30);
+        x.box(1, 33);
+        x.image();
+        x.act(1, 2, 5);
+        x.show(3, 1);
+        x.row(0, 0, -1);
+        return x;
+    }
+
+    private static void aRowOfLetters() {
+        Checks.says("A HOUSE is read from a ROW of letters");
+        for (int sort = 0; sort < 4; sort++) {
+            Face x = Watch.fresh();
+            Checks.fill(x, 1, sort, 'm', 'i', 'n', 'u', 't', 'e', ' ', '8');
+            Checks.due("a row of sort " + sort, x.house(1), 1);
+            Checks.due("its minute", x.status(6), 8);
+        }
+        int[] odd = {0, 1, -1, 'b' - 1, 'B', 'b' + 128, 'b' + 256, 'b' - 256, 127, 'b' + 65536};
+        for (int o : odd) {
+            Face x = Watch.fresh();
+            Checks.fill(x, 0, 2, o, 'o', 'x', ' ', '0', ' ', '0');
+            Checks.due("a letter " + o, x.house(0), -6);
+            Checks.due("its fault", x.fault(), 0);
+        }
+        for (int o : new int[] {'0' - 1, '9' + 1, '5' + 256, '5' - 256, 0}) {
+            Face x = Watch.fresh();
+            Checks.fill(x, 0, 2, 'm', 'i', 'n', 'u', 't', 'e', ' ', o);
+            Checks.due("a digit " + o, x.house(0), -6);
+            Checks.due("its fault", x.fault(), 7);
+            x.set(0, 7, '5');
+            Checks.due("a digit", x.house(0), 1);
+        }
+        Face x = Watch.fresh();
+        Checks.fill(x, 0, 2, 'b', 'o', 'x', ' ' + 256, '0', ' ', '0');
+        Checks.due("a blank and 256", x.house(0), -6);
+        Checks.due("its fault", x.fault(), 3);
+        x = Watch.fresh();
+        Checks.fill(x, 0, 2, 's', 'i', 'd', 'e', ' ', '4', ';' - 256, 's', 'i', 'd', 'e', ' ', '4');
+        Checks.due("a ; less 256", x.house(0), -6);
+        Checks.due("its fault", x.fault(), 6);
+        Checks.says("Elements of a ROW of longs count by their lowest 32 bits wherever a ROW tells something.");
+        x = Watch.fresh();
+        Checks.fill(x, 0, 3, 's' + (5L << 32), 'i' + (1L << 63), 'd' - (1L << 32), 'e', ' ' + (7L << 40), '6' + (1L << 32));
+        Checks.due("longs", x.house(0), 1);
+        Checks.due("its side", x.status(1), 6);
+        x.set(0, 5, '7' + (1L << 31));
+        Checks.due("a long whose lowest 32 bits are another", x.house(0), -6);
+    }
+
+    private static void itemsInARow() {
+        Checks.says("ITEM, then any number of times ; and ITEM");
+        Checks.due("one", good("side 5", 1).status(1), 5);
+        faulty("", 0);
+        faulty(";", 0);
+        faulty(";side 4", 0);
+        faulty("side 4;", 7);
+        faulty("side 4;;side 4", 7);
+        faulty("side 4 side 4", 6);
+        faulty("side 4,side 4", 6);
+        faulty("side 4; side 4", 7);
+        faulty("side 4 ;side 4", 6);
+        StringBuilder b = new StringBuilder("side 4");
+        for (int items = 2; items <= 23; items++) {
+            b.append(";side ").append(items < 23 ? 4 : 7);
+        }
+        Checks.due("as many as a row has room for", b.length(), 160);
+        Checks.due("23 items", good(b.toString(), 23).status(1), 7);
+        b.setCharAt(159, '9');
+        faulty(b.toString(), 159);
+        b.setCharAt(159, ' ');
+        faulty(b.toString(), 159);
+        b.setLength(159);
+        faulty(b.toString(), 159);
+        b.setLength(158);
+        faulty(b.toString(), 158);
+    }
+
+    /** A number's least and most may be; those one less and one more have their FAULT at its first digit. */
+    private static void bounds(Face x, String ahead, String behind, int least, int most) {
+        int at = ahead.length();
+        for (int v : new int[] {least, most}) {
+            good(x, ahead + v + behind, 1);
+        }
+        if (least < 10) {
+            good(x, ahead + "0" + least + behind, 1);
+        }
+        faulty(x, ahead + (least == 0 ? "-1" : "" + (least - 1)) + behind, at);
+        if (most < 99) {
+            faulty(x, ahead + (most + 1) + behind, at);
+        }
+        faulty(x, ahead + behind, at);
+        faulty(x, ahead + " " + least + behind, at);
+        faulty(x, ahead + "x" + behind, at);
+    }
+
+    private static void numbersAtTheirEdges() {
+        Face x = furnished();
+        Checks.says("side N (only as many or more)");
+        bounds(x, "side ", "", 6, 8);
+        bounds(Watch.fresh(), "side ", "", 4, 8);
+        Checks.due("as many", good(x, "side 6", 1).status(1), 6);
+        Checks.due("more", good(x, "side 7", 1).status(1), 7);
+        faulty(x, "side 7;side 6", 12);
+        faulty(x, "side 10", 5);
+        Checks.says("thing K A C");
+        bounds(x, "thing ", " 1 5", 0, 6);
+        bounds(x, "thing 1 ", " 5", 0, 9);
+        bounds(x, "thing 1 9 ", "", 0, 5);
+        bounds(x, "thing 1 9 ", "", 50, 55);
+        Checks.says("box B C");
+        bounds(x, "box ", " 5", 0, 1);
+        bounds(x, "box 0 ", "", 20, 25);
+        bounds(x, "box 1 ", "", 0, 5);
+        Checks.says("power N");
+        bounds(x, "power ", "", 10, 60);
+        Checks.says("channel N");
+        bounds(x, "channel ", "", 1, 13);
+        Checks.says("neighbour C N");
+        bounds(x, "neighbour ", " 5", 1, 13);
+        bounds(x, "neighbour 13 ", "", 0, 20);
+        Checks.says("device C W V");
+        bounds(x, "device ", " 5 5", 30, 35);
+        bounds(x, "device 5 ", " 5", 1, 5);
+        bounds(x, "device 5 5 ", "", 1, 99);
+        Checks.says("open T; shut T");
+        bounds(x, "open ", "", 0, 1);
+        bounds(x, "shut ", "", 0, 1);
+        faulty("open 0", 5);
+        faulty("shut 0", 5);
+        faulty(x, "shut 2;thing 0 0 0", 5);
+        good(x, "thing 0 0 0;shut 2;open 02", 3);
+        Checks.says("minute N");
+        bounds(x, "minute ", "", 0, 59);
+    }
+
+    private static void whatItemsTell() {
+        Checks.says("thing K A C; box B C; power N; channel N; neighbour C N; device C W V; open T; shut T; minute N");
+        Face x = good("side 6;thing 3 9 55;thing 2 04 05;box 0 50;box 1 12;power 10;channel 13", 7);
+        x = good(x, "neighbour 1 20;device 45 5 99;open 1;minute 59;thing 6 0 0;shut 1;open 02", 7);
         int[] status = {3, 6, 1, 1, 10, 13, 59, 50, 12, 1};
         for (int what = 0; what < status.length; what++) {
             Checks.due("status " + what, x.status(what), status[what]);
@@ -28,115 +187,60 @@ public final class TextTest {
                 Checks.due("thing " + i + " " + what, x.thingOf(i, what), things[i][what]);
             }
         }
-        Checks.due("neighbour", x.goesTo(0, 0), 1);
-        Checks.due("device's cell", x.deviceOf(0, 0), 45);
-        Checks.due("device's want", x.deviceOf(0, 1), 5);
-        Checks.due("device's worth", x.deviceOf(0, 2), 99);
-        good(x, "side 6", 1);
-        Checks.due("no shelf", x.house(8), -1);
-        Checks.due("nothing", x.house(3), -3);
-        x.show(3, 0);
-        Checks.due("a thing", x.house(3), -2);
-        Checks.due("-1 counted", x.status(11), 1);
-        Checks.due("-2 counted", x.status(12), 1);
-        Checks.due("-3 counted", x.status(13), 1);
-        for (int sort = 0; sort < 4; sort++) {
-            long high = sort == 3 ? 5L << 32 : 0L;
-            String text = "minute 8";
-            long[] letters = new long[text.length()];
-            for (int i = 0; i < letters.length; i++) {
-                letters[i] = text.charAt(i) + high;
-            }
-            x.ask(2, 0);
-            Checks.fill(x, 1, sort, letters);
-            Checks.due("a row of sort " + sort, x.house(1), 1);
-            Checks.due("minute", x.status(6), 8);
+        int[] device = {45, 5, 99, 0};
+        for (int what = 0; what < 4; what++) {
+            Checks.due("device " + what, x.deviceOf(0, what), device[what]);
         }
-        Checks.fill(x, 1, 2, 'b' + 256, 'o', 'x', ' ', '0', ' ', '0');
-        Checks.due("a letter and 256 is none", x.house(1), -6);
+        Checks.due("neighbour's channel", x.goesTo(0, 0), 1);
+        x.ask(1, 1);
+        Checks.due("neighbour's noise", x.hum(0, 1), 20);
+        Checks.says("All is told over what there is, or nothing");
+        x = good(furnished(), "thing 1 1 1;neighbour 9 9;device 0 1 1;box 1 5;open 0", 5);
+        Checks.due("the first thing stays", x.thingOf(0, 2), 11);
+        Checks.due("the third is new", x.thingOf(2, 2), 1);
+        Checks.due("the first neighbour stays", x.goesTo(0, 0), 3);
+        Checks.due("the second is new", x.goesTo(1, 0), 9);
+        Checks.due("the first device stays", x.deviceOf(0, 0), 22);
+        Checks.due("the second is new", x.deviceOf(1, 0), 0);
+        Checks.due("box 1 went", x.status(8), 5);
+        Checks.due("an old thing opens", x.thingOf(0, 3), 0);
+        Checks.due("the other doesn't", x.thingOf(1, 3), 1);
+        faulty(furnished(), "thing 1 1 1;neighbour 9 9;device 0 1 1;box 1 5;open 0;power 61", 60);
+        faulty(furnished(), "side 8;minute 5;channel 2;box 0 1;power 20;shut 0;side 8;", 57);
     }
 
-    private static void promise20Fault() {
-        TwoBarsByTheWindow x = new TwoBarsByTheWindow();
-        Checks.due("none yet", x.fault(), -1);
-        x.house(0);
-        Checks.due("none by a refusal", x.fault(), -1);
-        words(x);
-        numbers(x);
-        x.row(0, 0, 0);
-        Checks.due("an empty row", x.house(0), -6);
-        Checks.due("it ends too early", x.fault(), 0);
-        faulty(x, "side 4;;", 7);
-        Checks.due("no shelf", x.house(9), -1);
-        Checks.due("the fault stays", x.fault(), 7);
-        Checks.due("nothing", x.house(5), -3);
-        Checks.due("the fault stays", x.fault(), 7);
-        good(x, "side 4", 1);
-    }
-
-    private static void words(TwoBarsByTheWindow x) {
-        String[] words = {
-            "side", "thing", "box", "power", "channel", "neighbour", "device", "open", "shut", "minute"};
-        for (String word : words) {
-            for (int i = 0; i < word.length(); i++) {
-                faulty(x, word.substring(0, i) + "?" + word.substring(i), i);
-                if (i > 0) {
-                    faulty(x, word.substring(0, i), i);
-                    faulty(x, "minute 0;" + word.substring(0, i), 9 + i);
-                }
-            }
-            faulty(x, word, word.length());
-            faulty(x, word + "s 1", word.length());
-            faulty(x, word + " ", word.length() + 1);
-            faulty(x, word + "  ", word.length() + 1);
-            faulty(x, word + ";", word.length());
-        }
-        faulty(x, "sahut 1", 1);
-        faulty(x, " side 4", 0);
-        faulty(x, "Side 4", 0);
-    }
-
-    private static void numbers(TwoBarsByTheWindow x) {
-        faulty(x, "side 3", 5);
-        faulty(x, "side 9", 5);
-        faulty(x, "side 10", 5);
-        faulty(x, "side 040", 7);
-        faulty(x, "side 4 ", 6);
-        faulty(x, "side 4;", 7);
-        faulty(x, "side 5;side 4", 12);
-        faulty(x, "thing 7 0 0", 6);
-        faulty(x, "thing 0 10 0", 8);
-        faulty(x, "thing 0 1 44", 10);
-        faulty(x, "thing 0 1 4", 10);
-        faulty(x, "thing 0 1", 9);
-        faulty(x, "thing 0 1;", 9);
-        faulty(x, "thing 0 1 333", 12);
-        faulty(x, "thing 001 1 3", 8);
-        faulty(x, "side 5;thing 0 1 44;", 20);
-        faulty(x, "side 5;thing 0 1 55;", 17);
-        faulty(x, "box 2 0", 4);
-        faulty(x, "box 1 -1", 6);
-        faulty(x, "power 9", 6);
-        faulty(x, "power 61", 6);
-        faulty(x, "power 1", 6);
-        faulty(x, "power 100", 8);
-        faulty(x, "channel 0", 8);
-        faulty(x, "channel 14", 8);
-        faulty(x, "neighbour 0 0", 10);
-        faulty(x, "neighbour 13 21", 13);
-        faulty(x, "device 0 0 1", 9);
-        faulty(x, "device 0 6 1", 9);
-        faulty(x, "device 0 1 0", 11);
-        faulty(x, "device 0 1 100", 13);
-        faulty(x, "open 0", 5);
-        faulty(x, "thing 0 0 0;shut 1", 17);
-        faulty(x, "minute 60", 7);
-        faulty(x, "thing 0 0 0;minute 60", 19);
-        good(x, "box 1 00;power 60;channel 1;neighbour 01 00;device 03 1 1", 5);
+    private static void oneBlank() {
+        Checks.says("One blank between words and NUMBERS (1 to 2 digits).");
+        faulty("side", 4);
+        faulty("side4", 4);
+        faulty("side  4", 5);
+        faulty("side\t4", 4);
+        faulty("side 4 ", 6);
+        faulty(" side 4", 0);
+        faulty("box 01", 6);
+        faulty("box 0", 5);
+        faulty("box 0 ", 6);
+        faulty("box 0  3", 6);
+        faulty("box 0;3", 5);
+        faulty("thing 1 2 3 ", 11);
+        faulty("thing 1 2 3 4", 11);
+        faulty("thing 1 2 +3", 10);
+        good("thing 01 02 03", 1);
+        faulty("thing 001 2 3", 8);
+        faulty("thing 1 002 3", 10);
+        faulty("thing 1 2 003", 12);
+        faulty("minute 000", 9);
+        faulty("power 500", 8);
+        Checks.says("Numbers of a text may begin with 0.");
+        Checks.due("05", good("minute 05", 1).status(6), 5);
+        Checks.due("00", good("minute 00", 1).status(6), 0);
+        faulty("channel 00", 8);
+        faulty("power 09", 6);
     }
 
     private static void room() {
-        TwoBarsByTheWindow x = new TwoBarsByTheWindow();
+        Checks.says("what there is no room for can't stand: its word, once that is whole");
+        Face x = Watch.fresh();
         for (int i = 0; i < 15; i++) {
             x.thing(0, 0, 0);
         }
@@ -149,38 +253,176 @@ public final class TextTest {
         faulty(x, "thing 0 0 0;thing 0 0 0", 12);
         faulty(x, "neighbour 1 0;neighbour 1 0", 14);
         faulty(x, "device 0 1 1;device 0 1 1", 13);
-        faulty(x, "thing 0 0 0;thing", 12);
-        faulty(x, "thing 0 0 0;things", 12);
-        faulty(x, "thing 0 0 0;thin", 16);
-        faulty(x, "thing 0 0 0;think", 16);
-        good(x, "thing 0 0 0;neighbour 1 0;device 0 1 1", 3);
-        faulty(x, "thing", 0);
-        faulty(x, "neighbour 1 0", 0);
-        faulty(x, "device 9 9 9", 0);
-        faulty(x, "devic", 5);
-        good(x, "open 15;shut 15;box 1 3", 3);
+        x = good(x, "thing 0 0 0;neighbour 1 0;device 0 1 1", 3);
+        int[] full = {16, 4, 8, 6};
+        for (int what = 0; what < 4; what++) {
+            Checks.due("status " + what, x.status(what), full[what]);
+        }
+        full();
     }
 
-    private static void longest() {
-        TwoBarsByTheWindow x = new TwoBarsByTheWindow();
-        StringBuilder b = new StringBuilder("side 08");
-        for (int i = 0; i < 17; i++) {
-            b.append(";minute ").append(i % 10);
+    private static void full() {
+        Face x = Watch.fresh();
+        for (int i = 0; i < 16; i++) {
+            x.thing(0, 0, 0);
         }
-        Checks.due("all there is room for", b.length(), 160);
-        good(x, b.toString(), 18);
-        Checks.due("the last holds", x.status(6), 6);
-        b.setCharAt(159, ' ');
-        faulty(x, b.toString(), 159);
-        b.setCharAt(158, ';');
-        faulty(x, b.toString(), 158);
+        for (int i = 0; i < 8; i++) {
+            x.neighbour(1, 0);
+        }
+        for (int i = 0; i < 6; i++) {
+            x.device(0, 1, 1);
+        }
+        faulty(x, "thing 0 0 0", 0);
+        faulty(x, "neighbour 1 0", 0);
+        faulty(x, "device 0 1 1", 0);
+        faulty(x, "power 9;thing 0 0 0", 6);
+        faulty(x, "power 10;thing 0 0 0", 9);
+        good(x, "open 15;shut 15;box 1 3;side 5", 4);
+        Checks.says("Whether there is room for a word is asked when its letters stand whole: "
+            + "until then the first element that is not as it is the FAULT, or the number of elements.");
+        for (String word : new String[] {"thing", "neighbour", "device"}) {
+            for (int i = 1; i < word.length(); i++) {
+                faulty(x, word.substring(0, i), i);
+                faulty(x, word.substring(0, i) + "?", i);
+                faulty(x, word.substring(0, i) + "?" + word.substring(i + 1) + " 1 1 1", i);
+                faulty(x, "side 4;" + word.substring(0, i), 7 + i);
+            }
+            faulty(x, word, 0);
+            faulty(x, word + "s", 0);
+            faulty(x, word + " ", 0);
+            faulty(x, word + " 99 99 99", 0);
+            faulty(x, "side 4;" + word, 7);
+        }
+        Checks.says("a CELL outside: C");
+        faulty("thing 0 0 4", 10);
+        faulty("thing 0 0 04", 10);
+        faulty("thing 0 0 40", 10);
+        faulty("thing 0 0 44;side 5", 10);
+        faulty("box 0 4", 6);
+        faulty("device 40 1 1", 7);
+        good("side 5;thing 0 0 44;box 0 44;device 44 1 1", 4);
+        faulty("side 5;thing 0 0 45", 17);
+        faulty("side 5;thing 0 0 54", 17);
+    }
+
+    private static void firstFault() {
+        Checks.says("The FAULT: the first place at which an element can't stand as such texts go on");
+        for (String word : WORDS) {
+            for (int i = 0; i < word.length(); i++) {
+                faulty(word.substring(0, i) + "?" + word.substring(i), i);
+                faulty(word.substring(0, i) + word.substring(i).toUpperCase(), i);
+                faulty("minute 0;" + word.substring(0, i) + " ", 9 + i);
+            }
+            faulty(word + "s 1", word.length());
+            faulty(word + ";", word.length());
+            faulty(word + word, word.length());
+        }
+        faulty("sahut 1", 1);
+        faulty("dopen 1", 1);
+        faulty("boxpower 1", 3);
+        faulty("thing 7 9 99", 6);
+        faulty("thing 6 10 99", 8);
+        faulty("power 9;power 61", 6);
+        faulty("side 4;?;power 61", 7);
+        Checks.says("the number of elements, if it ends too early");
+        for (String word : WORDS) {
+            for (int i = 1; i <= word.length(); i++) {
+                faulty(word.substring(0, i), i);
+                faulty("minute 0;" + word.substring(0, i), 9 + i);
+            }
+            faulty(word + " ", word.length() + 1);
+        }
+        Checks.says("of a NUMBER that may not be the place of its first digit");
+        faulty("power 1", 6);
+        faulty("power 1;side 4", 6);
+        faulty("power 1x", 6);
+        faulty("power 613", 6);
+        faulty("power 99", 6);
+        faulty("minute 60;side 4", 7);
+        faulty("device 11 06 1", 10);
+    }
+
+    /** Each beginning of a text: whole, cut in a NUMBER that may not be so, or too early at its end. */
+    private static void beginnings() {
+        Checks.says("the number of elements, if it ends too early");
+        String text = "side 5;neighbour 13 20;box 1 43;power 20;minute 59";
+        int[] whole = {6, 21, 22, 40, 49, 50};
+        int[] items = {1, 2, 2, 4, 5, 5};
+        for (int i = 0; i <= text.length(); i++) {
+            int k = 0;
+            while (k < whole.length && whole[k] != i) {
+                k++;
+            }
+            String some = text.substring(0, i);
+            if (k < whole.length) {
+                good(some, items[k]);
+            } else if (i == 39) {
+                faulty(some, 38);
+            } else if (i == 30) {
+                // Box 1 in CELL 4.
+                Checks.due("box 1 in 4", good(some, 3).status(8), 4);
+            } else if (i == 31) {
+                good(some, 3);
+            } else {
+                faulty(some, i);
+            }
+        }
+    }
+
+    private static void promise19House() {
+        Checks.says("A HOUSE by the ROW in SHELF s: how many ITEMS. -1; -2; -3; -6 a FAULT.");
+        Face x = furnished();
+        x.row(0, 0, 0);
+        for (int s : new int[] {-1, 8, Integer.MIN_VALUE, Integer.MAX_VALUE}) {
+            Checks.refused("no shelf " + s, x, y -> y.house(s), -1);
+        }
+        Checks.refused("a thing", x, y -> y.house(3), -2);
+        Checks.refused("nothing", x, y -> y.house(1), -3);
+        faulty(x, "", 0);
+        Checks.due("the last shelf", Checks.built("side 5").status(1), 5);
+    }
+
+    private static void promise20Fault() {
+        Checks.says("The FAULT of the latest house() that came to a ROW; NONE: there was none, or none yet.");
+        Face x = Watch.fresh();
+        Checks.due("none yet", x.fault(), -1);
+        x.house(0);
+        Checks.due("none by a shelf of nothing", x.fault(), -1);
+        x.row(0, 0, 0);
+        x.house(0);
+        Checks.due("of an empty row", x.fault(), 0);
+        x.thing(0, 0, 0);
+        x.show(1, 0);
+        for (int s : new int[] {-1, 8, 1, 2}) {
+            Checks.hold("no row " + s, x.house(s) < 0);
+            Checks.due("the fault stays", x.fault(), 0);
+        }
+        Checks.text(x, 0, "side 4");
+        Checks.due("a row by itself is no house", x.fault(), 0);
+        x.house(0);
+        Checks.due("none by a good one", x.fault(), -1);
+        Checks.text(x, 0, "side 4;");
+        x.house(0);
+        Checks.due("anew", x.fault(), 7);
+        x.image();
+        x.restore();
+        Checks.due("the image doesn't keep it", x.fault(), 7);
+        x.set(0, 6, ' ');
+        x.house(0);
+        Checks.due("of the latest", x.fault(), 6);
     }
 
     public static void main(String[] args) {
+        aRowOfLetters();
+        itemsInARow();
+        numbersAtTheirEdges();
+        whatItemsTell();
+        oneBlank();
+        room();
+        firstFault();
+        beginnings();
         promise19House();
         promise20Fault();
-        room();
-        longest();
         Checks.end("TextTest");
     }
 }

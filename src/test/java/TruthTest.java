@@ -1,7 +1,7 @@
 /** Promises 39 to 46: what passes in truth, the moves, the image, the status. */
 public final class TruthTest {
     private static void promise39Evening() {
-        TwoBarsByTheWindow x = Checks.built("box 1 33;device 33 1 7;device 0 1 5");
+        Face x = Checks.built("box 1 33;device 33 1 7;device 0 1 5");
         // At 33 BOX 0 has 3, BOX 1 has 5.
         Checks.due("by the rule of 2", x.evening(1, 2), 12);
         Checks.due("it clings still", x.deviceOf(0, 3), 0);
@@ -18,10 +18,10 @@ public final class TruthTest {
         Checks.due("no minute went", x.status(6), 0);
         Checks.due("counted", x.status(16), 5);
         // The oven runs in the minute that comes, not in this one; in it BOX 0 has 18 at 33, BOX 1 has 30.
-        TwoBarsByTheWindow y = Checks.built("thing 4 1 33;minute 9;box 1 33;device 33 1 7");
+        Face y = Checks.built("thing 4 1 33;minute 9;box 1 33;device 33 1 7");
         Checks.due("in the minute that comes", y.evening(1, 1), 7);
         Checks.due("it let go", y.deviceOf(0, 3), 1);
-        TwoBarsByTheWindow z = Checks.built("thing 4 1 33;minute 0;box 1 33;device 33 3 7");
+        Face z = Checks.built("thing 4 1 33;minute 0;box 1 33;device 33 3 7");
         Checks.due("the oven rests then", z.evening(1, 1), 7);
         Checks.due("it clings", z.deviceOf(0, 3), 0);
         Checks.due("filled when all have passed", z.evening(9, 1), 0);
@@ -31,12 +31,12 @@ public final class TruthTest {
     }
 
     private static void promise40Weeks() {
-        TwoBarsByTheWindow x = new TwoBarsByTheWindow();
+        Face x = Watch.fresh();
         Checks.due("nothing there", x.weeks(1), 0);
         // 16838 modulo 4 is 2: a NEIGHBOUR, and there is none.
         Checks.due("one draw", x.status(9), 1103527590);
         Checks.due("a minute", x.status(6), 1);
-        TwoBarsByTheWindow y = Checks.built("neighbour 1 0");
+        Face y = Checks.built("neighbour 1 0");
         y.weeks(1);
         // 16838 modulo 4 is 2, then below 1, then 10113 modulo 13 is 12.
         Checks.due("three draws", y.status(9), 662824084);
@@ -45,10 +45,10 @@ public final class TruthTest {
         drawn(1, 2);
         drawn(2, 3);
         drawn(3, 1);
-        TwoBarsByTheWindow z = Checks.built("side 8;device 00 1 10");
+        Face z = Checks.built("side 8;device 00 1 10");
         z.seed(seedFor(3));
         Checks.due("filled behind each", z.weeks(1), 10);
-        TwoBarsByTheWindow w = new TwoBarsByTheWindow();
+        Face w = Watch.fresh();
         Checks.due("weeks 0", w.weeks(0), -6);
         Checks.due("weeks 61", w.weeks(61), -6);
         Checks.due("weeks below", w.weeks(Integer.MIN_VALUE), -6);
@@ -56,7 +56,7 @@ public final class TruthTest {
         Checks.due("counted", w.status(16), 3);
         Checks.due("60", w.weeks(60), 0);
         Checks.due("an hour", w.status(6), 0);
-        TwoBarsByTheWindow v = Checks.built("side 8;power 20;box 1 77;device 66 1 9;minute 59");
+        Face v = Checks.built("side 8;power 20;box 1 77;device 66 1 9;minute 59");
         v.seed(seedFor(3));
         // BOX 0 has none at 66, BOX 1 has 1: the rule of 1 lets it go, and half of 1 is none.
         Checks.due("by the rule of 1", v.weeks(1), 0);
@@ -78,7 +78,7 @@ public final class TruthTest {
     }
 
     private static void drawn(int what, int draws) {
-        TwoBarsByTheWindow x = Checks.built(
+        Face x = Checks.built(
             "side 7;device 00 1 1;device 01 1 1;device 02 1 1;thing 0 1 0;thing 2 1 0;neighbour 1 0;neighbour 2 0");
         int seed = seedFor(what);
         x.seed(seed);
@@ -115,21 +115,22 @@ public final class TruthTest {
             x.weeks(1);
             Checks.due("shut again", x.thingOf((one >>> 16) % 2, 3), 1);
         }
-        TwoBarsByTheWindow none = new TwoBarsByTheWindow();
+        Face none = Watch.fresh();
         none.seed(seed);
         none.weeks(1);
         Checks.due("no draw more of " + what, none.status(9), after(seed));
     }
 
     private static void promise41Seed() {
-        TwoBarsByTheWindow x = new TwoBarsByTheWindow();
+        Face x = Watch.fresh();
         Checks.due("1 at first", x.seed(Integer.MIN_VALUE), 1);
         Checks.due("any", x.seed(-1), Integer.MIN_VALUE);
         Checks.due("any", x.seed(0), -1);
         Checks.due("it is", x.status(9), 0);
     }
 
-    private static void acted(TwoBarsByTheWindow x, int thing, int move, int x0, int due, int... bodies) {
+    private static void acted(Face y, int thing, int move, int x0, int due, int... bodies) {
+        Face x = Watch.twin(y);
         String call = "act " + thing + " " + move;
         Checks.due(call, x.act(thing, move, x0), due);
         Checks.due("bodies of " + call, x.status(10), bodies.length);
@@ -139,7 +140,7 @@ public final class TruthTest {
     }
 
     private static void promise42ActAnd43Trace() {
-        TwoBarsByTheWindow x = Checks.built("thing 0 3 0;thing 1 3 0;thing 2 3 0;thing 3 3 0;thing 4 3 0;thing 5 3 0",
+        Face x = Checks.built("thing 0 3 0;thing 1 3 0;thing 2 3 0;thing 3 3 0;thing 4 3 0;thing 5 3 0",
             "thing 6 3 0");
         acted(x, 0, 0, 10, 10, 10);
         acted(x, 0, 1, 10, 20, 11, 10);
@@ -180,7 +181,7 @@ public final class TruthTest {
     }
 
     private static void promise44ImageAnd45Restore() {
-        TwoBarsByTheWindow x = Checks.built("side 5;thing 2 4 44;neighbour 3 4;device 1 2 3;box 0 12;power 20");
+        Face x = Checks.built("side 5;thing 2 4 44;neighbour 3 4;device 1 2 3;box 0 12;power 20");
         Checks.due("none yet", x.restore(), -6);
         x.ask(1, 8);
         x.ask(2, 7);
@@ -189,7 +190,7 @@ public final class TruthTest {
         x.show(0, 0);
         x.row(1, 2, 3);
         Checks.due("taken", x.image(), 1);
-        String ahead = Checks.whole(x);
+        Face as = Watch.twin(x);
         x.side(6);
         x.thing(1, 1, 55);
         x.show(2, 1);
@@ -226,11 +227,11 @@ public final class TruthTest {
         Checks.text(x, 4, "side 5");
         x.house(4);
         x.show(4, -1);
-        Checks.hold("all is as it was", ahead.equals(Checks.whole(x)));
+        Checks.same("all is as it was", Watch.twin(x), Watch.twin(as));
         x.thing(0, 0, 0);
         x.thing(0, 0, 0);
         Checks.due("the image is kept", x.restore(), 1);
-        Checks.hold("all is as it was again", ahead.equals(Checks.whole(x)));
+        Checks.same("all is as it was again", Watch.twin(x), as);
         x.thing(6, 9, 0);
         Checks.due("another image", x.image(), 2);
         x.shut(1, false);
@@ -239,7 +240,7 @@ public final class TruthTest {
     }
 
     private static void promise46Status() {
-        TwoBarsByTheWindow x = Checks.built("side 6;thing 0 0 0;thing 0 0 0;neighbour 2 3;power 33;channel 4;minute 5",
+        Face x = Checks.built("side 6;thing 0 0 0;thing 0 0 0;neighbour 2 3;power 33;channel 4;minute 5",
             "device 0 1 1;device 0 1 1;device 0 1 1;box 0 10;box 1 21");
         x.seed(99);
         x.act(0, 1, 0);
