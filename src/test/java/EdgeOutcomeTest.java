@@ -45,16 +45,21 @@ public final class EdgeOutcomeTest {
         Checks.due("box 1 for the last", w.put(2), 7704);
         Checks.due("none are put", w.status(8), -1);
         Checks.due("no devices", Watch.fresh().put(2), 0);
+        // Old walls all along row 1: nothing of row 0 comes through. CELLS outside, past the walls' end, are none.
+        Face o = Checks.built("power 30;thing 3 9 10;thing 3 9 11;thing 3 9 12;thing 3 9 13;device 23 1 9");
+        Checks.due("the first of row 1", o.put(0), 10);
+        Checks.due("the first of row 1, and box 1 anywhere", o.put(2), 1000);
         Checks.says("SERVED: FILLED, if each had its BEST.");
         Checks.due("no devices", Watch.fresh().filled(1), 0);
         Checks.says("BEST of a DEVICE: the greater PACE of both BOXES where it is.");
         Face v = Checks.built("power 30;box 1 33;device 33 1 9;device 00 1 9");
         Checks.due("1 of each", v.deviceOf(0, 5), 1);
         Checks.due("3 of box 0", v.deviceOf(1, 5), 3);
-        v.side(8);
-        v.box(1, 55);
-        v.move(0, 0);
-        Checks.due("box 1 too far from box 0", v.deviceOf(0, 5), 1);
+        Face u = Checks.built("side 8;power 30;box 1 15;device 65 1 10");
+        Checks.due("none of box 0", u.deviceOf(0, 4), 0);
+        Checks.due("1 of box 1", u.deviceOf(0, 5), 1);
+        u.box(1, 65);
+        Checks.due("box 1 too far from box 0", u.deviceOf(0, 5), 0);
     }
 
     private static void channel() {
@@ -99,6 +104,15 @@ public final class EdgeOutcomeTest {
         Face w = Checks.built("neighbour 6 20;neighbour 6 20");
         Checks.due("by numbers: the first", w.goesTo(0, 1), 1);
         Checks.due("the next, by where that is now", w.goesTo(1, 1), 11);
+        // At 6 the 15 make 3 and the BOX 8, at 7 the BOX makes 10; with 14 at 2 it is 10 at 6 too.
+        Face ten = Checks.built("channel 7;neighbour 6 0;neighbour 2 15;neighbour 12 20");
+        Checks.due("the BOX is one of 10, 11 is more", ten.goesTo(0, 1), 7);
+        ten = Checks.built("channel 7;neighbour 6 0;neighbour 2 14;neighbour 12 20");
+        Checks.due("10 is no less than 10", ten.goesTo(0, 1), 6);
+        Checks.says("(NOISE times 5 less the difference, 0 at least, by 5, cut)");
+        // The BOX makes 2 at 8 and nothing at 9; there each of the four makes 4 by 5, cut.
+        Face cut = Checks.built("channel 4;neighbour 3 0;neighbour 13 4;neighbour 13 4;neighbour 13 4;neighbour 13 4");
+        Checks.due("cut each", cut.goesTo(0, 1), 9);
         Checks.says("whole ROUNDS (of all), till one goes by in which nobody moved (20 at most): how many ROUNDS with moves");
         Checks.due("one at rest", x.rests(), 0);
         Checks.due("one round", y.rests(), 1);
@@ -263,6 +277,11 @@ public final class EdgeOutcomeTest {
         x.neighbour(6, 20);
         Checks.due("no bars anywhere: all fit", x.fits(0, 16, -1), 16);
         Checks.due("no measure tells anything: the first", x.next(0, 16), 0);
+        Face z = Watch.fresh();
+        z.ask(0, 60);
+        z.row(0, 0, 0);
+        // 5 bars up to five steps off: measured in a corner 15 have 5, the one across 4; elsewhere all 16 have 5.
+        Checks.due("15 of 5 are left", z.next(0, 0), 0);
         Face y = Watch.fresh();
         y.side(8);
         y.ask(0, 10);
@@ -296,6 +315,16 @@ public final class EdgeOutcomeTest {
             x.ask(2, d[0]);
             Checks.due("from " + d[0], x.minute(), d[1]);
         }
+        for (int a = 0; a <= 9; a++) {
+            Face y = Watch.fresh();
+            y.thing(4, a, 0);
+            y.device(0, 4, 9);
+            for (int from = 0; from < 60; from++) {
+                y.ask(2, from);
+                int quiet = from % 10 < a ? from - from % 10 + a : from;
+                Checks.due("an oven of " + a + ", from " + from, y.minute(), quiet);
+            }
+        }
         x.device(0, 3, 1);
         x.ask(2, 4);
         Checks.due("the most, not the first", x.minute(), 9);
@@ -315,6 +344,7 @@ public final class EdgeOutcomeTest {
             + "of several the first.");
         Checks.due("nothing lost", Watch.fresh().blame(0), 0);
         // At 2, two steps off: 4 by steps, and these.
+        blameBySteps();
         int[][] due = {{4, 0, 0, 0}, {5, 0, 0, 1}, {4, 0, 4, 0}, {4, 0, 5, 3}, {5, 0, 5, 1}, {5, 0, 6, 3}, {0, 1, 0, 2},
             {9, 1, 0, 2}, {0, 1, 10, 2}, {0, 1, 11, 3}, {10, 1, 10, 1}, {11, 1, 11, 1}, {11, 1, 12, 3}, {3, 0, 3, 0}};
         for (int[] d : due) {
@@ -329,6 +359,23 @@ public final class EdgeOutcomeTest {
             Checks.due("loss " + d[0] + ", hum " + 10 * d[1] + ", din " + d[2], x.blame(2), d[3]);
             x.box(1, 2);
             Checks.due("box 1 makes no odds", x.blame(2), d[3]);
+        }
+    }
+
+    /** The steps take 2 each: a LOSS of as much leaves the blame with them, 1 more takes it. */
+    private static void blameBySteps() {
+        int[] cells = {0, 1, 2, 3, 13, 23, 33};
+        for (int steps = 0; steps <= 6; steps++) {
+            for (int more = 0; more <= 1; more++) {
+                Face x = Watch.fresh();
+                x.neighbour(6, 2 * steps + more);
+                Checks.due(steps + " steps and a din of " + (2 * steps + more), x.blame(cells[steps]), 3 * more);
+                Face y = Watch.fresh();
+                for (int left = 2 * steps + more; left > 0; left -= 9) {
+                    y.thing(0, Math.min(9, left), cells[steps]);
+                }
+                Checks.due(steps + " steps and a loss of " + (2 * steps + more), y.blame(cells[steps]), steps == 0 ? 0 : more);
+            }
         }
     }
 
@@ -441,6 +488,58 @@ public final class EdgeOutcomeTest {
         Checks.due("with box 1", z.deviceOf(0, 3), 1);
     }
 
+    /** What a device in 3 gets falls from 4 bars to 3, by a loss, a hum or a din: each call tells it at once. */
+    private static void asItStands() {
+        Checks.says("WHAT COMES OF IT: of the house as it stands now, whatever was asked ahead");
+        Face x = Checks.built("device 3 4 7;thing 0 0 33");
+        Checks.fill(x, 0, 0, 3, 4);
+        Checks.due("asked ahead", x.bars(0, 3, 1), 4);
+        Face loss = Watch.twin(x);
+        loss.thing(0, 5, 2);
+        Face cot = Watch.twin(x);
+        cot.thing(6, 9, 13);
+        Face din = Watch.twin(x);
+        din.neighbour(6, 5);
+        Face[] houses = {x, loss, cot, din};
+        int[] one = {4, 3, 3, 3};
+        for (int h = 0; h < 4; h++) {
+            Checks.onlyTells("bars", houses[h], y -> y.bars(0, 3, 1), one[h]);
+            Checks.onlyTells("pace", houses[h], y -> y.bars(0, 3, 2), one[h]);
+            Checks.onlyTells("strength", houses[h], y -> y.bars(0, 3, 0), h == 0 ? 44 : 39);
+            Checks.onlyTells("deviceOf, pace", houses[h], y -> y.deviceOf(0, 4), one[h]);
+            Checks.onlyTells("deviceOf, best", houses[h], y -> y.deviceOf(0, 5), one[h]);
+            Checks.onlyTells("filled", houses[h], y -> y.filled(0), h == 0 ? 7 : 0);
+            Checks.onlyTells("served", houses[h], y -> y.filled(1), h == 0 ? 7 : 0);
+            Checks.onlyTells("put", houses[h], y -> y.put(0), h == 0 ? 0 : 1);
+            Checks.onlyTells("put 1", houses[h], y -> y.put(1), 0);
+            Checks.onlyTells("two", houses[h], y -> y.put(2), h == 0 ? 0 : 100);
+            Checks.onlyTells("near", houses[h], y -> y.near(3, 4), h == 0 ? 0 : 1);
+            Checks.onlyTells("moved", houses[h], Face::moved, h == 1 || h == 2 ? 1 : 0);
+            Checks.onlyTells("count", houses[h], y -> y.count(4), new int[] {15, 14, 11, 6}[h]);
+            Checks.onlyTells("fits", houses[h], y -> y.fits(0, 1, -1), new int[] {14, 13, 6, 6}[h]);
+            Checks.onlyTells("blame", houses[h], y -> y.blame(1), new int[] {0, 0, 0, 3}[h]);
+            Checks.onlyTells("blame of 2", houses[h], y -> y.blame(2), new int[] {0, 1, 0, 3}[h]);
+            Checks.onlyTells("blame of 13", houses[h], y -> y.blame(13), new int[] {0, 0, 2, 0}[h]);
+            Face two = Watch.twin(houses[h]);
+            two.box(1, 13);
+            Checks.onlyTells("hops", two, y -> y.hops(0, 1, 3), h == 0 ? 0 : 1);
+            two.evening(1, 3);
+            Checks.due("clings", two.deviceOf(0, 3), h == 0 ? 0 : 1);
+        }
+        Face oven = Watch.twin(x);
+        oven.thing(4, 5, 13);
+        Checks.onlyTells("minute", x, Face::minute, 0);
+        Checks.onlyTells("minute with an oven", oven, Face::minute, 5);
+        Checks.onlyTells("moved with an oven", oven, Face::moved, 1);
+        Face last = Watch.twin(loss);
+        last.minute();
+        last.move(1, 33);
+        Checks.due("put when it is away", last.put(0), 0);
+        last.move(1, 2);
+        Checks.due("doors when it is back", last.doors(), 0);
+        Checks.due("put when it is back", last.put(0), 1);
+    }
+
     public static void main(String[] args) {
         put();
         channel();
@@ -456,6 +555,7 @@ public final class EdgeOutcomeTest {
         walk();
         hops();
         inTruth();
+        asItStands();
         Checks.end("EdgeOutcomeTest");
     }
 }

@@ -251,6 +251,23 @@ public final class EdgeShelfTest {
         Checks.due("a minute all the same", y.status(6), 1);
     }
 
+    /** One of a sort is enough: a DRAW below 1 is drawn for it. */
+    private static void oneOfASort() {
+        for (int what = 0; what < 3; what++) {
+            Face x = Watch.fresh();
+            int i = what == 0 ? x.device(0, 1, 1) : what == 1 ? x.thing(2, 1, 0) : x.neighbour(1, 0);
+            int seed = seedFor(what, true, 31);
+            int one = after(seed), two = after(one), three = after(two), four = after(three);
+            x.seed(seed);
+            x.weeks(1);
+            Checks.due("the one of sort " + what, i, 0);
+            Checks.due("draws for it", x.status(9), what == 0 ? four : what == 1 ? two : three);
+            Checks.due("a device's cell", x.deviceOf(0, 0), what == 0 ? 10 * drawn(three, 4) + drawn(four, 4) : -5);
+            Checks.due("a thing is open", x.thingOf(0, 3), what == 1 ? 0 : -5);
+            Checks.due("a neighbour's channel", x.goesTo(0, 0), what == 2 ? 1 + drawn(three, 13) : -1);
+        }
+    }
+
     private static void weeks() {
         Checks.says("then a MINUTE passes by the rule of 1. FILLED of all these, behind each, together.");
         Face x = Watch.fresh();
@@ -388,6 +405,29 @@ public final class EdgeShelfTest {
         Checks.due("a shelf that held one holds nothing", x.says(2, 0), -3);
         x.thing(6, 0, 0);
         Checks.due("the number anew: the shelf holds nothing still", x.holds(2), -1);
+        Face z = Watch.fresh();
+        z.image();
+        z.thing(0, 0, 0);
+        z.show(0, 0);
+        z.row(0, 1, 2);
+        z.set(0, 1, 7);
+        z.restore();
+        Checks.due("a row where a thing was is a row", z.holds(0), 101);
+        Checks.due("and has its elements", z.element(0, 1), 7);
+        Face w = Checks.built("box 1 33;device 33 1 1;device 00 1 1");
+        w.evening(1, 3);
+        w.image();
+        w.box(1, -1);
+        w.evening(1, 4);
+        Checks.due("it went", w.deviceOf(0, 3), 0);
+        Checks.text(w, 0, "minute 5");
+        w.house(0);
+        w.restore();
+        Checks.due("what it clings to is in the image", w.deviceOf(0, 3), 1);
+        Checks.due("and the other's", w.deviceOf(1, 3), 0);
+        w.house(0);
+        Checks.due("a text leaves what it clings to", w.deviceOf(0, 3), 1);
+        Checks.due("it is told over that", w.status(6), 5);
         Checks.says("-6 there is none.");
         Checks.due("none yet", Watch.fresh().restore(), -6);
         Face y = Watch.fresh();
@@ -429,6 +469,7 @@ public final class EdgeShelfTest {
         copies();
         says();
         draws();
+        oneOfASort();
         weeks();
         moves();
         image();

@@ -41,6 +41,9 @@ public final class FaceTest {
             }
         }
         Checks.hold("the methods: " + got, got.equals(due));
+        for (Method m : face.getDeclaredMethods()) {
+            Checks.hold(m + " has no name of the face", Modifier.isPublic(m.getModifiers()) || !names.contains(m.getName()));
+        }
         for (Field f : face.getDeclaredFields()) {
             Checks.hold(f + " is private", f.getName().equals("NONE") || Modifier.isPrivate(f.getModifiers()));
         }

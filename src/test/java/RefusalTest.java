@@ -23,6 +23,8 @@ public final class RefusalTest {
         x.device(33, 2, 40);
         x.device(0, 5, 7);
         x.box(1, 21);
+        x.device(21, 1, 9);
+        x.evening(1, 4);
         x.ask(2, 58);
         x.image();
         x.shut(0, false);
@@ -132,23 +134,23 @@ public final class RefusalTest {
     }
 
     private static void shelves() {
-        Checks.says("SHELVES 0 to 7; -1 NOBODY, -4 BELOW, -6 WRONG, -7 ROOM: the first that fits, in this order");
+        Checks.says("Promise 2, row: -1; -4; -6 SORT; -7 n above 160.");
         Face x = furnished();
         cross("row", x, (y, a) -> y.row(a[0], a[1], a[2]), SHELF, range(-6, 0, 3),
             new int[] {LOW, -4, -1, -4, 0, 0, 160, 0, 161, -7, HIGH, -7});
-        Checks.says("set: -1; -2; -3; -5.");
+        Checks.says("Promise 3, set: -1; -2; -3; -5.");
         int[] rows = {LOW, -1, -1, -1, 8, -1, 3, -2, 4, -3, 2, 0};
         cross("set", x, (y, a) -> y.set(a[0], a[1], 77L), rows, range(-5, 0, 1));
-        Checks.says("show: -1.");
+        Checks.says("Promise 6, show: -1.");
         cross("show", x, (y, a) -> y.show(a[0], a[1]), SHELF, may(-1, new int[] {-1, 0, 2}, -2, 3, LOW, HIGH));
         cross("show", Watch.fresh(), (y, a) -> y.show(a[0], a[1]), SHELF, may(-1, new int[] {-1}, -2, 0, HIGH));
-        Checks.says("says: -1 SHELF, KIND; -2 also a THING of another KIND; -3.");
+        Checks.says("Promise 8, says: -1 SHELF, KIND; -2 also a THING of another KIND; -3.");
         cross("says", x, (y, a) -> y.says(a[0], a[1]), new int[] {LOW, -1, -1, -1, 8, -1, HIGH, -1, 0, -2, 4, -3},
             range(-1, 0, 6));
         // Shelf 3 holds a COT.
         cross("says", x, (y, a) -> y.says(3, a[0]),
             new int[] {-1, -1, 0, 0, 1, -2, 2, -2, 3, -2, 4, 0, 5, -2, 6, 0, 7, -1, LOW, -1, HIGH, -1});
-        Checks.says("house: -1; -2; -3");
+        Checks.says("Promise 19, house: -1; -2; -3");
         cross("house", x, (y, a) -> y.house(a[0]), new int[] {LOW, -1, -1, -1, 8, -1, HIGH, -1, 3, -2, 4, -3, 7, -3});
     }
 
@@ -171,7 +173,7 @@ public final class RefusalTest {
     }
 
     private static void copies() {
-        Checks.says("copy: -1; -2 also of two SORTS (when both hold something); -3 either; -4 n; "
+        Checks.says("Promise 4, copy: -1; -2 also of two SORTS (when both hold something); -3 either; -4 n; "
             + "-5 i or j below 0, or an end that isn't there.");
         Face x = furnished();
         Told told = (y, a) -> y.copy(a[0], a[1], a[2], a[3], a[4]);
@@ -197,44 +199,44 @@ public final class RefusalTest {
     }
 
     private static void house() {
-        Checks.says("side: -6 also less than it is.");
+        Checks.says("Promise 9, side: -6 also less than it is.");
         cross("side", Watch.fresh(), (y, a) -> y.side(a[0]), and(range(-6, 4, 8), 2, -6, 1, -6));
         Face x = furnished();
         cross("side", x, (y, a) -> y.side(a[0]), and(range(-6, 5, 8), 2, -6, 1, -6));
         Told thing = (y, a) -> y.thing(a[0], a[1], a[2]);
         Told neighbour = (y, a) -> y.neighbour(a[0], a[1]);
         Told device = (y, a) -> y.device(a[0], a[1], a[2]);
-        Checks.says("thing: -1 KIND; -6; -7.");
+        Checks.says("Promise 10, thing: -1 KIND; -6; -7.");
         cross("thing", x, thing, range(-1, 0, 6), range(-6, 0, 9), cell(-6));
-        Checks.says("neighbour: -6; -7.");
+        Checks.says("Promise 11, neighbour: -6; -7.");
         cross("neighbour", x, neighbour, range(-6, 1, 13), range(-6, 0, 20));
-        Checks.says("device: -6; -7.");
+        Checks.says("Promise 12, device: -6; -7.");
         cross("device", x, device, cell(-6), range(-6, 1, 5), range(-6, 1, 99));
         Face full = full();
         int[] corner = {0, -7, 33, -7, 4, -6, -1, -6, 34, -6, 40, -6};
-        Checks.says("thing, there is no room: -1 KIND; -6; -7.");
+        Checks.says("Promise 10, thing, where there is no room: -1 KIND; -6; -7.");
         cross("thing", full, thing, new int[] {-1, -1, 0, -7, 6, -7, 7, -1}, new int[] {-1, -6, 0, -7, 9, -7, 10, -6}, corner);
-        Checks.says("neighbour, there is no room: -6; -7.");
+        Checks.says("Promise 11, neighbour, where there is no room: -6; -7.");
         cross("neighbour", full, neighbour, new int[] {0, -6, 1, -7, 13, -7, 14, -6}, new int[] {-1, -6, 0, -7, 20, -7, 21, -6});
-        Checks.says("device, there is no room: -6; -7.");
+        Checks.says("Promise 12, device, where there is no room: -6; -7.");
         cross("device", full, device, corner, new int[] {0, -6, 1, -7, 5, -7, 6, -6}, new int[] {0, -6, 1, -7, 99, -7, 100, -6});
-        Checks.says("box: -16 (counted as -6).");
+        Checks.says("Promise 13, box: -16 (counted as -6).");
         Told box = (y, a) -> y.box(a[0], a[1]);
         cross("box", x, 10, box, range(-6, 0, 1), may(-6, new int[] {0, 44}, LOW, -2, 5, 45, 50, HIGH));
         cross("box to none", x, 10, box, new int[] {-1, -6, 0, -6, 1, 0, 2, -6}, new int[] {-1, 0});
-        Checks.says("ask: -6.");
+        Checks.says("Promise 14, ask: -6.");
         Told ask = (y, a) -> y.ask(a[0], a[1]);
         cross("ask", x, ask, new int[] {0, 0}, range(-6, 10, 60));
         cross("ask", x, ask, new int[] {1, 0}, range(-6, 1, 13));
         cross("ask", x, ask, new int[] {2, 0}, range(-6, 0, 59));
         cross("ask", x, ask, new int[] {-1, -6, 3, -6, LOW, -6, HIGH, -6}, new int[] {10, 0, 0, 0, -1, 0});
-        Checks.says("shut: -1.");
+        Checks.says("Promise 15, shut: -1.");
         cross("shut", x, (y, a) -> y.shut(a[0], a[1] == 1), range(-1, 0, 2), new int[] {0, 0, 1, 0});
         cross("shut", Watch.fresh(), (y, a) -> y.shut(a[0], true), new int[] {-1, -1, 0, -1});
-        Checks.says("move: -1; -6.");
+        Checks.says("Promise 16, move: -1; -6.");
         cross("move", x, (y, a) -> y.move(a[0], a[1]), range(-1, 0, 2), cell(-6));
         cross("move", Watch.fresh(), (y, a) -> y.move(a[0], a[1]), new int[] {0, -1}, new int[] {0, 0, 44, -6});
-        Checks.says("restore: -6 there is none.");
+        Checks.says("Promise 45, restore: -6 there is none.");
         cross("restore", Watch.fresh(), (y, a) -> y.restore(), new int[] {0, -6});
         cross("restore", full(), (y, a) -> y.restore(), new int[] {0, -6});
         cross("restore", x, (y, a) -> y.restore(), new int[] {0, 0});
@@ -242,35 +244,35 @@ public final class RefusalTest {
 
     private static void looks() {
         Face x = furnished();
-        Checks.says("thingOf: -5: no such one, another what.");
+        Checks.says("Promise 17, thingOf: -5: no such one, another what.");
         cross("thingOf", x, (y, a) -> y.thingOf(a[0], a[1]), range(-5, 0, 2), range(-5, 0, 4));
-        Checks.says("deviceOf: -5: no such one, another what.");
-        cross("deviceOf", x, (y, a) -> y.deviceOf(a[0], a[1]), range(-5, 0, 1), range(-5, 0, 5));
+        Checks.says("Promise 18, deviceOf: -5: no such one, another what.");
+        cross("deviceOf", x, (y, a) -> y.deviceOf(a[0], a[1]), range(-5, 0, 2), range(-5, 0, 5));
         cross("thingOf", Watch.fresh(), (y, a) -> y.thingOf(0, a[0]), new int[] {0, -5});
         cross("deviceOf", Watch.fresh(), (y, a) -> y.deviceOf(0, a[0]), new int[] {0, -5});
-        Checks.says("bars: -5 another what; -6.");
+        Checks.says("Promise 21, bars: -5 another what; -6.");
         cross("bars", x, (y, a) -> y.bars(a[0], a[1], a[2]), range(-6, 0, 1), cell(-6), range(-5, 0, 2));
         cross("bars", Watch.fresh(), (y, a) -> y.bars(1, a[0], a[1]), new int[] {0, 0, 4, -6, -1, -6}, range(-5, 0, 2));
-        Checks.says("way: -5 another what; -6.");
+        Checks.says("Promise 22, way: -5 another what; -6.");
         cross("way", x, (y, a) -> y.way(a[0], a[1], a[2]), cell(-6), cell(-6), range(-5, 0, 1));
-        Checks.says("hum: -5 another what; -6.");
+        Checks.says("Promise 23, hum: -5 another what; -6.");
         cross("hum", x, (y, a) -> y.hum(a[0], a[1]), cell(-6), range(-5, 0, 1));
-        Checks.says("filled: -5 another what.");
+        Checks.says("Promise 24, filled: -5 another what.");
         cross("filled", x, (y, a) -> y.filled(a[0]), range(-5, 0, 1));
-        Checks.says("put: -5 another what.");
+        Checks.says("Promise 25, put: -5 another what.");
         cross("put", x, (y, a) -> y.put(a[0]), range(-5, 0, 2));
-        Checks.says("goesTo: -1; -6.");
+        Checks.says("Promise 28, goesTo: -1; -6.");
         cross("goesTo", x, (y, a) -> y.goesTo(a[0], a[1]), range(-1, 0, 1), range(-6, 0, 20));
         cross("goesTo", Watch.fresh(), (y, a) -> y.goesTo(0, a[0]), new int[] {0, -1, 21, -1});
-        Checks.says("count: -6.");
+        Checks.says("Promise 31, count: -6.");
         cross("count", x, (y, a) -> y.count(a[0]), range(-6, 0, 5));
-        Checks.says("near: -16 (counted as -6).");
+        Checks.says("Promise 34, near: -16 (counted as -6).");
         cross("near", x, 10, (y, a) -> y.near(a[0], a[1]), cell(-6), range(-6, 0, 5));
-        Checks.says("blame: -6.");
+        Checks.says("Promise 36, blame: -6.");
         cross("blame", x, (y, a) -> y.blame(a[0]), cell(-6));
-        Checks.says("evening: -6.");
+        Checks.says("Promise 39, evening: -6.");
         cross("evening", x, (y, a) -> y.evening(a[0], a[1]), range(-6, 1, 60), range(-6, 0, 4));
-        Checks.says("weeks: -6.");
+        Checks.says("Promise 40, weeks: -6.");
         cross("weeks", x, (y, a) -> y.weeks(a[0]), range(-6, 1, 60));
     }
 
@@ -308,16 +310,17 @@ public final class RefusalTest {
         Face x = told();
         int[] shelves = {LOW, -1, 8, HIGH, 3, 4, 0, 2, 5};
         int[] many = {LOW, -1, 0, 1, 2, 3, 40, 41, 42, 1 << 30, (1 << 30) + 1, HIGH};
-        Checks.says("fits: -1; -2; -3; -4 n; -5 fewer elements, no such i; -6 n above 40, no CELL, no BARS (0 to 5).");
         for (int s : shelves) {
             for (int n : many) {
+                Checks.says("Promise 32, fits: -1; -2; -3; -4 n; -5 fewer elements, no such i; "
+                    + "-6 n above 40, no CELL, no BARS (0 to 5).");
                 int code = toldDue(s, n, 2);
                 int fit = n == 0 ? 16 : s == 0 ? 1 : 0;
                 for (int i : new int[] {LOW, -2, -1, 0, 1, 15, 16, HIGH}) {
                     int own = i == -1 || i >= 0 && i < fit ? 0 : -5;
                     one("fits", x, (y, a) -> y.fits(a[0], a[1], a[2]), 0, code == 0 ? own : code, s, n, i);
                 }
-                Checks.says("next: -11; -12; -13; -14; -15; -16 (counted as -1 to -6).");
+                Checks.says("Promise 33, next: -11; -12; -13; -14; -15; -16 (counted as -1 to -6).");
                 one("next", x, (y, a) -> y.next(a[0], a[1]), 10, code, s, n);
             }
         }
@@ -344,9 +347,9 @@ public final class RefusalTest {
         for (int s : shelves) {
             for (int n : new int[] {LOW, -1, 0, 1, 5, 6, 7, 40, 41, 81, 82, HIGH}) {
                 int code = toldDue(s, n, 1);
-                Checks.says("judge: -11; -12; -13; -14 n; -15 fewer elements; -16 n above 40 (counted as -1 to -6).");
+                Checks.says("Promise 37, judge: -11; -12; -13; -14 n; -15 fewer elements; -16 n above 40 (counted as -1 to -6).");
                 one("judge", x, (y, a) -> y.judge(a[0], a[1]), 10, code, s, n);
-                Checks.says("hops: -1; -2; -3; -4; -5; -6 also if it is WRONG, another rule.");
+                Checks.says("Promise 38, hops: -1; -2; -3; -4; -5; -6 also if it is WRONG, another rule.");
                 for (int rule : new int[] {LOW, -2, -1, 0, 4, 5, HIGH}) {
                     int own = rule < -1 || rule > 4 || s == 1 && n == 6 ? -6 : 0;
                     one("hops", x, (y, a) -> y.hops(a[0], a[1], a[2]), 0, code == 0 ? own : code, s, n, rule);
@@ -378,7 +381,7 @@ public final class RefusalTest {
         Checks.onlyTells("put 1", x, y -> y.put(1), 0);
         Checks.onlyTells("put 2", x, y -> y.put(2), 0);
         Checks.onlyTells("near", x, y -> y.near(0, 5), -1);
-        Checks.onlyTells("filled", x, y -> y.filled(1), 40);
+        Checks.onlyTells("filled", x, y -> y.filled(1), 49);
         Face z = told();
         Checks.onlyTells("next", z, y -> y.next(0, 1), -1);
         Checks.onlyTells("judge", z, y -> y.judge(1, 5), -1);
