@@ -167,7 +167,31 @@ public final class EdgeFullTest {
         Checks.due("put as it is", y.put(0), 77);
     }
 
+    private static void lastCall() {
+        Checks.says("An object is used for at most 512 calls after it has been made");
+        Face x = Watch.fresh();
+        for (int i = 1; i < Watch.MOST; i++) {
+            x.row(-1, 0, 0);
+        }
+        Checks.due("the last call: how many were refused", x.status(11), Watch.MOST - 1);
+        Face y = Watch.fresh();
+        for (int i = 0; i < Watch.MOST / 2; i++) {
+            Checks.due("a row, time and again", y.row(0, 3, 160), 1);
+            Checks.due("its last", y.set(0, 159, i), 1);
+        }
+        Face z = Watch.fresh();
+        int due = 1;
+        for (int i = 0; i < Watch.MOST - 1; i++) {
+            z.weeks(60);
+        }
+        for (int i = 0; i < 60 * (Watch.MOST - 1); i++) {
+            due = due * 1103515245 + 12345;
+        }
+        Checks.due("draws of all the weeks", z.status(9), due);
+    }
+
     public static void main(String[] args) {
+        lastCall();
         emptyHouse();
         emptyRow();
         fullRow();

@@ -437,7 +437,7 @@ public final class EdgeOutcomeTest {
         x.box(0, 1);
         x.box(1, 0);
         Checks.due("at the first cell too", x.hops(0, 40, 4), 40);
-        Checks.due("of a device that clings nothing is known here", x.hops(0, 1, 4), 1);
+        Checks.due("at the first cell alone", x.hops(0, 1, 4), 1);
         Checks.says("CALM: the greatest n (0 to 4) by which HOPS are fewest.");
         Checks.due("3", x.hops(0, 40, -1), 3);
         Checks.due("no cells: 4", x.hops(0, 0, -1), 4);
