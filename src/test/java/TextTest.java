@@ -1,3 +1,5 @@
+import java.util.function.ToIntFunction;
+
 /** Promises 19 and 20, and what "1. THE HOUSE" says of texts: each sentence with its edges. */
 public final class TextTest {
     private static final String[] WORDS = {
@@ -209,6 +211,56 @@ public final class TextTest {
         faulty(furnished(), "side 8;minute 5;channel 2;box 0 1;power 20;shut 0;side 8;", 57);
     }
 
+    /** A house where each number of an item may be that of a thing, a neighbour, a device. */
+    private static Face inhabited() {
+        Face x = Watch.fresh();
+        x.side(5);
+        for (int i = 0; i < 12; i++) {
+            x.thing(i % 7, i % 10, 10 * (i % 5) + i / 5);
+            x.shut(i, i % 3 != 0);
+        }
+        for (int i = 0; i < 4; i++) {
+            x.neighbour(2 + 3 * i, 5 * i);
+            x.device(11 * i, 1 + i, 20 * i + 7);
+        }
+        x.box(0, 22);
+        x.box(1, 31);
+        x.ask(2, 40);
+        return x;
+    }
+
+    /** The item, read, changes what its call changes, and nothing else. */
+    private static void likeItsCall(Face x, String item, ToIntFunction<Face> call) {
+        Face read = Watch.twin(x);
+        Checks.text(read, 0, item);
+        Face told = Watch.twin(read);
+        Checks.due("house " + item, read.house(0), 1);
+        Checks.hold("the call of " + item, call.applyAsInt(told) >= 0);
+        Checks.same(item + " is as its call", read, told);
+    }
+
+    private static void eachItemTellsItsOwnAlone() {
+        Checks.says("side N; thing K A C; box B C; power N; channel N; neighbour C N; device C W V; open T; shut T; minute N");
+        Face x = inhabited();
+        for (int v = 0; v < 60; v++) {
+            int n = v;
+            likeItsCall(x, "minute " + n, y -> y.ask(2, n));
+            likeItsCall(x, "power " + (10 + n % 51), y -> y.ask(0, 10 + n % 51));
+            likeItsCall(x, "channel " + (1 + n % 13), y -> y.ask(1, 1 + n % 13));
+            likeItsCall(x, "open " + n % 12, y -> y.shut(n % 12, false));
+            likeItsCall(x, "shut " + n % 12, y -> y.shut(n % 12, true));
+            int cell = 10 * (n % 5) + n / 5 % 5;
+            likeItsCall(x, "box " + n % 2 + " " + cell, y -> y.box(n % 2, cell));
+            likeItsCall(x, "thing " + n % 7 + " " + n % 10 + " " + cell, y -> y.thing(n % 7, n % 10, cell));
+            likeItsCall(x, "neighbour " + (1 + n % 13) + " " + n % 21, y -> y.neighbour(1 + n % 13, n % 21));
+            likeItsCall(x, "device " + cell + " " + (1 + n % 5) + " " + (99 - n), y -> y.device(cell, 1 + n % 5, 99 - n));
+        }
+        for (int n = 5; n <= 8; n++) {
+            int side = n;
+            likeItsCall(x, "side " + side, y -> y.side(side));
+        }
+    }
+
     private static void oneBlank() {
         Checks.says("One blank between words and NUMBERS (1 to 2 digits).");
         faulty("side", 4);
@@ -417,6 +469,7 @@ public final class TextTest {
         itemsInARow();
         numbersAtTheirEdges();
         whatItemsTell();
+        eachItemTellsItsOwnAlone();
         oneBlank();
         room();
         firstFault();
