@@ -136,7 +136,8 @@ public final class ModelTest {
             {false}, {false, false, true}, {false, true}, {false}, {false}, {false, false}, {true, false, false},
             {false}, {false}, {false}};
         for (int i = 0; i < tops[word].length; i++) {
-            int v = cells[word][i] ? cell() : tops[word][i] - draw(Math.min(4, tops[word][i] + 1));
+            int range = draw(3) == 0 ? tops[word][i] + 1 : Math.min(4, tops[word][i] + 1);
+            int v = cells[word][i] ? cell() : tops[word][i] - draw(range);
             v = draw(25) == 0 ? draw(130) : v;
             b.append(' ');
             if (v < 10 && draw(5) == 0) {
