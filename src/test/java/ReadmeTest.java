@@ -5,7 +5,6 @@ import java.nio.file.Path;
 import java.util.List;
 import java.util.regex.Matcher;
 import java.util.regex.Pattern;
-import javax.tools.ToolProvider;
 
 /** The examples in README.md compile, and each call answers what stands behind it. */
 public final class ReadmeTest {
@@ -32,8 +31,9 @@ public final class ReadmeTest {
         Path made = work.resolve("Examples.class");
         file.toFile().deleteOnExit();
         made.toFile().deleteOnExit();
-        Checks.due("README: compiled", ToolProvider.getSystemJavaCompiler().run(null, System.out, System.err,
-            "-d", work.toString(), "-cp", System.getProperty("java.class.path"), file.toString()), 0);
+        Process javac = new ProcessBuilder("javac", "-d", work.toString(), "-cp",
+            System.getProperty("java.class.path"), file.toString()).inheritIO().start();
+        Checks.due("README: compiled", javac.waitFor(), 0);
         try (URLClassLoader loader = new URLClassLoader(new URL[] {work.toUri().toURL()})) {
             return (List<?>) loader.loadClass("Examples").getMethod("answers").invoke(null);
         }
